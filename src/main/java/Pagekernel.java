@@ -159,17 +159,17 @@ public final class Pagekernel {
   private static final int CALL = 26;
   private static final int RETURN = 27;
 
-  /** A TOKEN makes two steps at most, but for "return", which makes three together with its ";". */
-  private static final int MOST_STEPS = 400;
+  /** No TOKEN makes more than two steps, so this is enough for the longest TEXT. */
+  private static final int MOST_STEPS = 2 * MOST_TOKENS + 80;
 
-  // How a PROCESS goes on; a TRAP k is TRAPS + k.
+  // How a PROCESS goes on; a TRAP k is TRAPS + k, an end by a signal s KILLED + s.
   private static final int GOES = 0;
   private static final int RESTS = 1;
   private static final int SERVES = 2;
   private static final int RETURNS = 3;
   private static final int WAITS = 4;
-  private static final int ENDS = 5;
   private static final int TRAPS = 10;
+  private static final int KILLED = 20;
 
   /** Far above the turns that a loop over a TEXT's symbols or over the steps of one TICK can need. */
   private static final int MOST_TURNS = 1000000;
@@ -233,7 +233,7 @@ public final class Pagekernel {
     if (token < 0 || token >= TOKENS) {
       throw new IllegalArgumentException("no such token");
     }
-    int before = text.at(place);
+    int before = text.tokenAt(place);
     text.put(place, token);
     return before;
   }
@@ -245,7 +245,7 @@ public final class Pagekernel {
   public int token(int program, int place) throws IndexOutOfBoundsException {
     Text text = textOf(program);
     requireIndex(place, text.many);
-    return text.at(place);
+    return text.tokenAt(place);
   }
 
   public String text(int program) throws IndexOutOfBoundsException {
@@ -253,7 +253,7 @@ public final class Pagekernel {
     words.setLength(0);
     for (int i = 0; i < text.many; i++) {
       writeBlank(i > 0);
-      writeSign(text.at(i));
+      writeSign(text.tokenAt(i));
     }
     return words.toString();
   }
@@ -799,7 +799,7 @@ public final class Pagekernel {
   }
 
   private static boolean isCalled(int token) {
-    return isIn(token, FUNCTION, INT) || isIn(token, SERVICE, TOKENS);
+    return token >= FUNCTION && token < INT || token >= SERVICE;
   }
 
   /** What stands in a row, or 0 where there is no such place: no index reaches a row untested. */
@@ -827,7 +827,7 @@ public final class Pagekernel {
     boolean isLighter;
 
     /** The TOKEN in a place, NONE behind the last one. */
-    int at(int place) {
+    int tokenAt(int place) {
       return place >= 0 && place < many && place < tokens.length ? tokens[place] : NONE;
     }
 
@@ -874,7 +874,7 @@ public final class Pagekernel {
     }
 
     boolean isDefined(int function) {
-      return Pagekernel.at(locals, function) != NONE;
+      return at(locals, function) != NONE;
     }
   }
 
@@ -915,10 +915,20 @@ public final class Pagekernel {
 
     /** Adds a step; its place. */
     int add(int step, int operand) {
-      set(steps, many, step);
-      set(operands, many, operand);
+      if (many < 0 || many >= MOST_STEPS) {
+        return NONE;
+      }
+      steps[many] = step;
+      operands[many] = operand;
       many++;
       return many - 1;
+    }
+
+    /** Lets a jump lead behind all that stands here. */
+    void patch(int jump) {
+      if (jump >= 0 && jump < MOST_STEPS) {
+        operands[jump] = many;
+      }
     }
 
     boolean isDefined(int function) {
@@ -1069,17 +1079,19 @@ public final class Pagekernel {
     private static final int TOLD = 104;
     private static final int STATEMENTS = 105;
     private static final int STATEMENT = 106;
-    private static final int ELSE_PART = 107;
-    private static final int RETURNED = 108;
-    private static final int ASSIGNED = 109;
-    private static final int CALL_PART = 110;
-    private static final int ARGUMENTS = 111;
-    private static final int MORE_ARGUMENTS = 112;
-    private static final int EXPRESSION = 113;
-    private static final int TAIL = 114;
-    private static final int UNARY = 115;
-    private static final int ADDRESSED = 116;
-    private static final int ROW_PART = 117;
+    private static final int SIMPLE = 107;
+    private static final int ELSE_PART = 108;
+    private static final int RETURNED = 109;
+    private static final int ASSIGNED = 110;
+    private static final int CALL_PART = 111;
+    private static final int ARGUMENTS = 112;
+    private static final int MORE_ARGUMENTS = 113;
+    private static final int EXPRESSION = 114;
+    private static final int TAIL = 115;
+    private static final int UNARY = 116;
+    private static final int ADDRESSED = 117;
+    private static final int ROW_PART = 118;
+    private static final int IN_ROW = 119;
     // actions
     private static final int ACTIONS = 130;
     private static final int END_FUNCTION = 130;
@@ -1134,6 +1146,8 @@ public final class Pagekernel {
         int value = at(values, due);
         if (symbol < TOKENS) {
           match(symbol);
+        } else if (symbol == DEFINITION) {
+          define(text.tokenAt(place));
         } else if (symbol >= ACTIONS) {
           act(symbol, value);
         } else if (symbol < EXPRESSION) {
@@ -1152,7 +1166,7 @@ public final class Pagekernel {
       int depth = 0;
       int defined = NONE;
       for (int i = 0; i < text.many; i++) {
-        int token = text.at(i);
+        int token = text.tokenAt(i);
         if (token == OPEN_BLOCK) {
           depth++;
         } else if (token == CLOSE_BLOCK) {
@@ -1171,14 +1185,14 @@ public final class Pagekernel {
       int depth = 0;
       int found = 0;
       for (int i = from + 1; i < text.many; i++) {
-        int token = text.at(i);
+        int token = text.tokenAt(i);
         if (token == OPEN_BLOCK) {
           depth++;
         } else if (token == CLOSE_BLOCK) {
           depth--;
         } else if (depth == 0 && isIn(token, FUNCTION, INT)) {
           break;
-        } else if (isIn(token, NAME, ROW) && (depth == 0 || text.at(i - 1) == INT)) {
+        } else if (isIn(token, NAME, ROW) && (depth == 0 || text.tokenAt(i - 1) == INT)) {
           found |= 1 << token - NAME;
         }
       }
@@ -1186,13 +1200,15 @@ public final class Pagekernel {
     }
 
     private void push(int symbol, int value) {
-      set(symbols, due, symbol);
-      set(values, due, value);
-      due++;
+      if (due >= 0 && due < MOST_SYMBOLS) {
+        symbols[due] = symbol;
+        values[due] = value;
+        due++;
+      }
     }
 
     private void match(int token) {
-      if (text.at(place) == token) {
+      if (text.tokenAt(place) == token) {
         place++;
       } else {
         misformed();
@@ -1212,13 +1228,9 @@ public final class Pagekernel {
       }
     }
 
-    private void patch(int jump) {
-      set(code.operands, jump, code.many);
-    }
-
     /** Parts of the form that are no E. */
     private void expand(int symbol, int value) {
-      int token = text.at(place);
+      int token = text.tokenAt(place);
       switch (symbol) {
         case DEFINITIONS:
           if (token != NONE) {
@@ -1226,7 +1238,6 @@ public final class Pagekernel {
             push(DEFINITION, 0);
           }
           break;
-        case DEFINITION: define(token); break;
         case PARAMETERS:
           if (token != CLOSE) {
             push(MORE_PARAMETERS, 0);
@@ -1249,7 +1260,8 @@ public final class Pagekernel {
             push(STATEMENT, 0);
           }
           break;
-        case STATEMENT: state(token); break;
+        case STATEMENT: beginStatement(token); break;
+        case SIMPLE: beginSimple(token); break;
         case ELSE_PART: orElse(token, value); break;
         case RETURNED: giveBack(token); break;
         case ASSIGNED: assign(token, value); break;
@@ -1303,8 +1315,7 @@ public final class Pagekernel {
       place++;
     }
 
-    private void state(int token) {
-      int first = place;
+    private void beginStatement(int token) {
       if (token == OPEN_BLOCK) {
         place++;
         push(STATEMENTS, 0);
@@ -1316,7 +1327,7 @@ public final class Pagekernel {
         push(TOLD, 0);
         return;
       }
-      int rest = code.add(REST, first);
+      int rest = code.add(REST, place);
       if (token == IF || token == WHILE) {
         place++;
         push(token == IF ? BRANCH : TEST_LOOP, rest);
@@ -1327,23 +1338,22 @@ public final class Pagekernel {
       }
       push(SEMICOLON, 0);
       if (token != SEMICOLON) {
-        place++;
-        stateSimply(token, first);
+        push(SIMPLE, 0);
       }
     }
 
     /** A STATEMENT that ends with ";". */
-    private void stateSimply(int token, int first) {
+    private void beginSimple(int token) {
       if (token == BREAK) {
         if (loops == 0) {
-          report(5, first);
+          report(5, place);
         }
         breaks = code.add(JUMP, breaks);
       } else if (token == GIVE_BACK) {
         push(RETURNED, 0);
       } else if (isCalled(token)) {
         push(WRITE_STEP, DROP);
-        push(CALL_PART, first);
+        push(CALL_PART, place);
       } else if (isIn(token, NAME, ROW)) {
         push(ASSIGNED, token - NAME);
         push(ASSIGN, 0);
@@ -1351,17 +1361,15 @@ public final class Pagekernel {
         push(WRITE_STEP, STORE);
         push(EXPRESSION, 0);
         push(ASSIGN, 0);
-        if (token == STAR) {
-          push(UNARY, 0);
-        } else {
-          placeInRow(token);
-        }
+        push(token == STAR ? UNARY : IN_ROW, token);
       } else {
-        place = first;
         misformed();
+        return;
       }
+      place++;
     }
 
+    /** The ADDRESS in a ROW, from its "[" on. */
     private void placeInRow(int token) {
       code.add(PUSH, FIRST_ROW_CELL + (token - ROW) * PAGE);
       push(WRITE_STEP, ADD);
@@ -1376,7 +1384,7 @@ public final class Pagekernel {
         push(PATCH, code.add(JUMP, NONE));
         push(STATEMENT, 0);
       }
-      patch(jump);
+      code.patch(jump);
     }
 
     private void giveBack(int token) {
@@ -1413,7 +1421,7 @@ public final class Pagekernel {
 
     /** Parts of an E: what is left of a sign is written ahead of what is right. */
     private void reckon(int symbol, int value) {
-      int token = text.at(place);
+      int token = text.tokenAt(place);
       switch (symbol) {
         case EXPRESSION: expectFrom(0); break;
         case TAIL:
@@ -1440,6 +1448,7 @@ public final class Pagekernel {
           code.add(PUSH, FIRST_CELL + token - NAME);
           place++;
           break;
+        case IN_ROW: placeInRow(value); break;
         default:
           if (token == OPEN_PLACE) {
             push(WRITE_STEP, LOAD);
@@ -1508,7 +1517,7 @@ public final class Pagekernel {
           loops++;
           break;
         case END_LOOP: leaveLoop(value); break;
-        case PATCH: patch(value); break;
+        case PATCH: code.patch(value); break;
         case WRITE_STEP: code.add(value, 0); break;
         case JUMP_BACK: code.add(JUMP, value); break;
         case SET_NAME:
@@ -1521,7 +1530,7 @@ public final class Pagekernel {
         case CALLED: finishCall(value); break;
         default:
           code.add(TRUTH, 0);
-          patch(value);
+          code.patch(value);
           break;
       }
     }
@@ -1529,7 +1538,7 @@ public final class Pagekernel {
     private void leaveLoop(int outer) {
       for (int i = 0; i < MOST_STEPS && breaks != NONE; i++) {
         int before = at(code.operands, breaks);
-        patch(breaks);
+        code.patch(breaks);
         breaks = before;
       }
       breaks = outer;
@@ -1537,7 +1546,7 @@ public final class Pagekernel {
     }
 
     private void finishCall(int first) {
-      int token = text.at(first);
+      int token = text.tokenAt(first);
       boolean isService = token >= SERVICE;
       int takes = isService ? at(TAKES, token - SERVICE) : at(code.parameters, token - FUNCTION);
       if (takes == NONE) {
@@ -1563,6 +1572,9 @@ public final class Pagekernel {
     /** By SLOTS, a page each: 0 was never touched, k is the page k - 1 of the machine, -k the page k - 1 of the disk. */
     private final int[] table = new int[ENTRIES];
     private final int[] mayStore = new int[ENTRIES];
+    // What isCounted and isKept find, to be compared.
+    private final int[] users = new int[MOST_PAGES];
+    private final int[] diskUsers = new int[ENTRIES];
     private final int[] kept = new int[MOST_BREAK];
     int many = 12;
     private int hand;
@@ -1590,7 +1602,7 @@ public final class Pagekernel {
     }
 
     private static int entryOf(int slot, int address) {
-      boolean isThere = isIn(slot, 0, SLOTS) && isIn(address, 0, MOST_BREAK);
+      boolean isThere = slot >= 0 && slot < SLOTS && address >= 0 && address < MOST_BREAK;
       return isThere ? slot * TABLE + address / PAGE : NONE;
     }
 
@@ -1621,25 +1633,25 @@ public final class Pagekernel {
 
     /** A page that nobody uses, or the next one that was not touched since the hand came by. */
     private int choosePage(int spared) {
-      for (int i = 0; i < many; i++) {
-        if (at(uses, i) == 0) {
-          return i;
+      for (int page = 0; page < many && page < MOST_PAGES; page++) {
+        if (uses[page] == 0) {
+          return page;
         }
       }
       for (int i = 0; i < 3 * MOST_PAGES; i++) {
-        int page = hand < many ? hand : 0;
-        hand = page + 1 < many ? page + 1 : 0;
-        if (page != spared && at(isTouched, page) == 0) {
+        int page = hand >= 0 && hand < many && hand < MOST_PAGES ? hand : 0;
+        hand = page + 1;
+        if (page != spared && isTouched[page] == 0) {
           return page;
         }
-        set(isTouched, page, 0);
+        isTouched[page] = 0;
       }
       return spared == 0 ? 1 : 0;
     }
 
+    /** What a page has goes to the disk for all that use it. */
     private void goOut(int page) {
-      int used = at(uses, page);
-      if (used == 0) {
+      if (page < 0 || page >= MOST_PAGES || uses[page] == 0) {
         return;
       }
       int free = 0;
@@ -1653,39 +1665,41 @@ public final class Pagekernel {
           mayStore[i] = 0;
         }
       }
-      diskUses[free] = used;
-      set(uses, page, 0);
+      diskUses[free] = uses[page];
+      uses[page] = 0;
     }
 
+    /** What an entry leads to on the disk comes to a page for all that use it, or the page is a new one. */
     private void bringIn(int entry, int page) {
-      int where = at(table, entry);
-      if (where == 0) {
-        Arrays.fill(cells, page * PAGE, page * PAGE + PAGE, 0);
-        set(table, entry, page + 1);
-        set(uses, page, 1);
+      if (entry < 0 || entry >= ENTRIES || page < 0 || page >= MOST_PAGES || table[entry] > 0) {
         return;
       }
-      int from = -where - 1;
-      for (int i = 0; i < PAGE; i++) {
-        set(cells, page * PAGE + i, at(disk, from * PAGE + i));
+      int from = -table[entry] - 1;
+      if (from < 0 || from >= ENTRIES) {
+        Arrays.fill(cells, page * PAGE, page * PAGE + PAGE, 0);
+        table[entry] = page + 1;
+        uses[page] = 1;
+        return;
       }
+      System.arraycopy(disk, from * PAGE, cells, page * PAGE, PAGE);
       for (int i = 0; i < ENTRIES; i++) {
-        if (table[i] == where) {
+        if (table[i] == -from - 1) {
           table[i] = page + 1;
         }
       }
-      set(uses, page, at(diskUses, from));
-      set(diskUses, from, 0);
+      uses[page] = diskUses[from];
+      diskUses[from] = 0;
     }
 
     /** One of those that share a page gets a page of its own. */
     private void part(int entry, int shared, int page) {
-      for (int i = 0; i < PAGE; i++) {
-        set(cells, page * PAGE + i, at(cells, shared * PAGE + i));
+      boolean isThere = entry >= 0 && entry < ENTRIES && shared >= 0 && shared < MOST_PAGES;
+      if (isThere && page >= 0 && page < MOST_PAGES) {
+        System.arraycopy(cells, shared * PAGE, cells, page * PAGE, PAGE);
+        uses[shared]--;
+        uses[page] = 1;
+        table[entry] = page + 1;
       }
-      set(uses, shared, at(uses, shared) - 1);
-      set(uses, page, 1);
-      set(table, entry, page + 1);
     }
 
     private void leave(int entry) {
@@ -1758,30 +1772,25 @@ public final class Pagekernel {
 
     /** Whether each page is counted as often as it is used, and none that two use can be stored to. */
     boolean isCounted() {
-      for (int page = 0; page < MOST_PAGES; page++) {
-        if (usersOf(page + 1) != uses[page] || page >= many && uses[page] != 0) {
-          return false;
+      Arrays.fill(users, 0);
+      Arrays.fill(diskUsers, 0);
+      boolean isRight = true;
+      for (int i = 0; i < ENTRIES; i++) {
+        int where = table[i];
+        if (where > 0) {
+          set(users, where - 1, at(users, where - 1) + 1);
+        } else if (where < 0) {
+          set(diskUsers, -where - 1, at(diskUsers, -where - 1) + 1);
         }
+        isRight = isRight && (mayStore[i] == 0 || where > 0 && at(uses, where - 1) == 1);
+      }
+      for (int page = 0; page < MOST_PAGES; page++) {
+        isRight = isRight && users[page] == uses[page] && (page < many || uses[page] == 0);
       }
       for (int page = 0; page < ENTRIES; page++) {
-        if (usersOf(-page - 1) != diskUses[page]) {
-          return false;
-        }
-        if (mayStore[page] != 0 && at(uses, table[page] - 1) != 1) {
-          return false;
-        }
+        isRight = isRight && diskUsers[page] == diskUses[page];
       }
-      return true;
-    }
-
-    private int usersOf(int where) {
-      int users = 0;
-      for (int i = 0; i < ENTRIES; i++) {
-        if (table[i] == where) {
-          users++;
-        }
-      }
-      return users;
+      return isRight;
     }
 
     /** Whether all cells of a SLOT are what they were, behind all its pages went out and came in again. */
@@ -1818,7 +1827,7 @@ public final class Pagekernel {
     int service;
     int first;
     int second;
-    /** What it returned from its first FRAME. */
+    /** What it returned from a FRAME, or told exit. */
     int value;
 
     void copyOf(Cpu other) {
@@ -2031,11 +2040,10 @@ public final class Pagekernel {
     private final int[] handlers = new int[3];
     private final int[] descriptors = new int[DESCRIPTORS];
 
-    Process(int pid, int parent, int slot, int program) {
+    Process(int pid, int parent, int slot) {
       this.pid = pid;
       this.parent = parent;
       this.slot = slot;
-      this.program = program;
       Arrays.fill(descriptors, NONE);
     }
 
@@ -2043,6 +2051,7 @@ public final class Pagekernel {
     void copyOf(Process other) {
       code.copyOf(other.code);
       cpu.copyOf(other.cpu);
+      program = other.program;
       breakAt = other.breakAt;
       System.arraycopy(other.handlers, 0, handlers, 0, handlers.length);
       System.arraycopy(other.descriptors, 0, descriptors, 0, descriptors.length);
@@ -2242,7 +2251,8 @@ public final class Pagekernel {
     private int head = 1;
 
     Files() {
-      writeHome(now, HOME_BLOCKS + 1);
+      draw(now);
+      writeHome(HOME_BLOCKS + 1);
     }
 
     int bodies() {
@@ -2329,59 +2339,48 @@ public final class Pagekernel {
     int syncAll() {
       int had = pending;
       writeLog(pending, false);
-      writeHome(now, HOME_BLOCKS + 1);
+      draw(now);
+      writeHome(HOME_BLOCKS + 1);
       synced.copyOf(now);
       pending = 0;
       return had;
     }
 
     private void writeLog(int n, boolean isTorn) {
-      for (int i = 0; i < n * BLOCK; i++) {
-        set(disk, LOG_FROM + i, at(acts, i));
-      }
-      if (isTorn && n < pending) {
-        for (int i = n * BLOCK; i < n * BLOCK + BLOCK / 2; i++) {
-          set(disk, LOG_FROM + i, at(acts, i));
-        }
+      int behind = n * BLOCK + (isTorn && n < pending ? BLOCK / 2 : 0);
+      for (int i = 0; i < behind && i < acts.length; i++) {
+        disk[LOG_FROM + i] = acts[i];
       }
     }
 
-    /** Writes so many blocks of the home, and the head as the last one: with it the log is void. */
-    private void writeHome(Shelf shelf, int blocks) {
-      draw(shelf);
-      for (int i = 0; i < blocks * BLOCK && i < HOME_BLOCKS * BLOCK; i++) {
-        set(disk, HOME_FROM + i, image[i]);
+    /** Draws what the home of FILES is to be. */
+    private void draw(Shelf shelf) {
+      System.arraycopy(shelf.named, 0, image, 0, NAMES);
+      for (int body = 0; body < BODIES; body++) {
+        int from = (1 + body * BODY_BLOCKS) * BLOCK;
+        image[from] = shelf.lengths[body];
+        System.arraycopy(shelf.cells, body * BODY_CELLS, image, from + 1, BODY_CELLS);
+      }
+    }
+
+    /** Writes so many blocks of what was drawn, and the head as the last one: with it the log is void. */
+    private void writeHome(int blocks) {
+      for (int i = 0; i < blocks * BLOCK && i < image.length; i++) {
+        disk[HOME_FROM + i] = image[i];
       }
       if (blocks > HOME_BLOCKS) {
         head += MOST_ACTS;
-        set(disk, 0, head);
-      }
-    }
-
-    private void draw(Shelf shelf) {
-      for (int name = 0; name < NAMES; name++) {
-        set(image, name, shelf.bodyOf(name));
-      }
-      for (int body = 0; body < BODIES; body++) {
-        int from = (1 + body * BODY_BLOCKS) * BLOCK;
-        set(image, from, shelf.lengthOf(body));
-        for (int i = 0; i < BODY_CELLS; i++) {
-          set(image, from + 1 + i, shelf.cellAt(body, i));
-        }
+        disk[0] = head;
       }
     }
 
     /** What the disk tells, its log with it. */
     private void readAnew(Shelf shelf) {
-      for (int name = 0; name < NAMES; name++) {
-        set(shelf.named, name, at(disk, HOME_FROM + name));
-      }
+      System.arraycopy(disk, HOME_FROM, shelf.named, 0, NAMES);
       for (int body = 0; body < BODIES; body++) {
         int from = HOME_FROM + (1 + body * BODY_BLOCKS) * BLOCK;
-        set(shelf.lengths, body, at(disk, from));
-        for (int i = 0; i < BODY_CELLS; i++) {
-          set(shelf.cells, body * BODY_CELLS + i, at(disk, from + 1 + i));
-        }
+        shelf.lengths[body] = disk[from];
+        System.arraycopy(disk, from + 1, shelf.cells, body * BODY_CELLS, BODY_CELLS);
       }
       for (int i = 0; i < MOST_ACTS; i++) {
         int from = LOG_FROM + i * BLOCK;
@@ -2415,14 +2414,16 @@ public final class Pagekernel {
     /** A CRASH within a SYNC, behind so many blocks that followed the log. */
     void restartWithin(int blocks) {
       writeLog(pending, false);
-      writeHome(now, blocks);
+      draw(now);
+      writeHome(blocks);
       restart();
     }
 
     private void restart() {
       Arrays.fill(opens, 0);
       readAnew(now);
-      writeHome(now, HOME_BLOCKS + 1);
+      draw(now);
+      writeHome(HOME_BLOCKS + 1);
       synced.copyOf(now);
       pending = 0;
     }
@@ -2553,7 +2554,8 @@ public final class Pagekernel {
     }
 
     private int endOf(int pipe, int end) {
-      return isIn(pipe, 0, PIPES) ? at(ends, pipe * 2 + end) : NONE;
+      boolean isThere = pipe >= 0 && pipe < PIPES && end >= 0 && end < 2;
+      return isThere ? ends[pipe * 2 + end] : NONE;
     }
 
     int pipes() {
@@ -2747,7 +2749,7 @@ public final class Pagekernel {
       if (text.kind != 0 || !text.isDefined(function)) {
         return NONE;
       }
-      return Pagekernel.at(text.locals, function) >> name & 1;
+      return at(text.locals, function) >> name & 1;
     }
 
     /** Whether code of LEVEL 2 has no more steps than that of LEVEL 0. */
@@ -2801,13 +2803,13 @@ public final class Pagekernel {
       return housed() < SLOTS && pids < MOST_PIDS;
     }
 
-    private Process beget(int parent, int program) {
+    private Process beget(int parent) {
       int slot = 0;
       while (slot < SLOTS - 1 && slots[slot] != 0) {
         slot++;
       }
       pids++;
-      Process process = new Process(pids, parent, slot, program);
+      Process process = new Process(pids, parent, slot);
       slots[slot] = pids;
       if (pids < processes.length) {
         processes[pids] = process;
@@ -2821,13 +2823,18 @@ public final class Pagekernel {
       if (text.kind != 0) {
         return REFUSED;
       }
-      Process process = beget(0, program);
-      load(process, text);
+      Process process = beget(0);
+      load(process, program, text);
       settle(process, goOn(process));
       return process.pid;
     }
 
-    private void load(Process process, Text text) {
+    /** A PROCESS is to begin with F of a PROGRAM. */
+    private void load(Process process, int program, Text text) {
+      process.program = program;
+      process.breakAt = HEAP;
+      process.forgetHandlers();
+      memory.leaveAll(process.slot);
       translator.translate(text, process.code);
       process.code.shorten(level);
       process.cpu.begin(process.code);
@@ -2875,6 +2882,11 @@ public final class Pagekernel {
       int how = open(process);
       for (int i = 0; i < 3 && (how == GOES || how == SERVES); i++) {
         how = how == GOES ? goOn(process) : serve(process);
+        if (born != null) {
+          Process child = born;
+          born = null;
+          settle(child, goOn(child));
+        }
       }
       settle(process, how);
       if (hasPaused) {
@@ -2914,8 +2926,7 @@ public final class Pagekernel {
     private int takeSignal(Process process, int signal) {
       int handler = signal < 3 ? process.handlerOf(signal) : 0;
       if (handler == 0) {
-        end(process, 100 + signal, BY_SIGNAL);
-        return ENDS;
+        return KILLED + signal;
       }
       process.signals &= ~(1 << signal - 1);
       return process.cpu.hold(process.code, handler, signal) ? GOES : TRAPS + 3;
@@ -2928,6 +2939,8 @@ public final class Pagekernel {
     private void settle(Process process, int how) {
       if (how == RETURNS) {
         end(process, process.cpu.value, BY_RETURN);
+      } else if (how > KILLED) {
+        end(process, 100 + how - KILLED, BY_SIGNAL);
       } else if (how > TRAPS) {
         end(process, 200 + how - TRAPS, 1 + how - TRAPS);
       }
@@ -3029,74 +3042,52 @@ public final class Pagekernel {
         return WAITS;
       }
       int first = process.cpu.first;
-      int service = process.cpu.service;
-      if (service == EXIT) {
-        end(process, first, BY_RETURN);
-        return ENDS;
+      int second = process.cpu.second;
+      int told = NONE;
+      switch (process.cpu.service) {
+        case FORK: told = fork(process); break;
+        case EXEC:
+          Text text = isIn(first, 0, PROGRAMS) ? checked(first) : null;
+          if (text != null && text.kind == 0) {
+            load(process, first, text);
+            return GOES;
+          }
+          break;
+        case WAIT: told = await(process, first); break;
+        case EXIT: process.cpu.value = first; return RETURNS;
+        case PIPE: told = makePipe(process, first); break;
+        case READ: told = readCell(process, first, second); break;
+        case WRITE: told = writeCell(process, first, second); break;
+        case OPEN_FILE: told = openFile(process, first, second); break;
+        case CLOSE_FILE: told = closeOne(process, first) ? 0 : NONE; break;
+        case UNLINK: told = files.unlink(first) ? 0 : NONE; break;
+        case KILL: told = isIn(second, 1, 4) && signal(first, second) ? 0 : NONE; break;
+        case ON: told = handle(process, first, second); break;
+        case PUT: talk.put(process.pid, first); told = first; break;
+        case GET: memory.put(process.slot, first, talk.takeFirst()); told = 1; break;
+        case GROW: told = grow(process, first); break;
+        case PID: told = process.pid; break;
+        case PAUSE: hasPaused = true; told = 0; break;
+        default: told = files.syncAll(); break;
       }
-      if (service == EXEC && isStartable(first)) {
-        exec(process, first);
-        return GOES;
-      }
-      process.cpu.tell(service < OPEN_FILE && service > EXIT
-          ? serveEnds(process, service, first) : serveOthers(process, service, first));
+      process.cpu.tell(told);
       return GOES;
     }
 
-    private int serveEnds(Process process, int service, int first) {
-      switch (service) {
-        case PIPE: return makePipe(process, first);
-        case READ: return readCell(process, first, process.cpu.second);
-        default: return writeCell(process, first, process.cpu.second);
-      }
-    }
-
-    private int serveOthers(Process process, int service, int first) {
-      int second = process.cpu.second;
-      switch (service) {
-        case FORK: return fork(process);
-        case WAIT: return await(process, first);
-        case OPEN_FILE: return openFile(process, first, second);
-        case CLOSE_FILE: return closeOne(process, first) ? 0 : NONE;
-        case UNLINK: return files.unlink(first) ? 0 : NONE;
-        case KILL: return isIn(second, 1, 4) && signal(first, second) ? 0 : NONE;
-        case ON: return handle(process, first, second);
-        case PUT: talk.put(process.pid, first); return first;
-        case GET: memory.put(process.slot, first, talk.takeFirst()); return 1;
-        case GROW: return grow(process, first);
-        case PID: return process.pid;
-        case PAUSE: hasPaused = true; return 0;
-        case SYNC: return files.syncAll();
-        default: return NONE;
-      }
-    }
-
-    /** The child goes on ahead of its parent, before this is told to the parent. */
+    /** The child is born: the TICK lets it go on ahead of its parent. */
     private int fork(Process process) {
       if (!hasRoom()) {
         return NONE;
       }
-      Process child = beget(process.pid, process.program);
+      Process child = beget(process.pid);
       child.copyOf(process);
       memory.share(process.slot, child.slot);
       for (int i = 0; i < DESCRIPTORS; i++) {
         openings.lead(child.opened(i));
       }
       child.cpu.tell(0);
-      settle(child, goOn(child));
+      born = child;
       return child.pid;
-    }
-
-    private boolean isStartable(int program) {
-      return isIn(program, 0, PROGRAMS) && checked(program).kind == 0;
-    }
-
-    private void exec(Process process, int program) {
-      process.program = program;
-      process.breakAt = HEAP;
-      process.forgetHandlers();
-      memory.leaveAll(process.slot);
-      load(process, checked(program));
     }
 
     /** The child with the smallest PID that is ENDED, or has a SLOT at all; null. */
