@@ -904,7 +904,6 @@ public final class Pagekernel {
     }
 
     void copyOf(Code other) {
-      many = other.many;
       System.arraycopy(other.steps, 0, steps, 0, steps.length);
       System.arraycopy(other.operands, 0, operands, 0, operands.length);
       System.arraycopy(other.entries, 0, entries, 0, entries.length);
@@ -1830,14 +1829,12 @@ public final class Pagekernel {
     /** What it returned from a FRAME, or told exit. */
     int value;
 
+    /** Of another one that is in a CALL of a SERVICE: nothing is left on its stack then. */
     void copyOf(Cpu other) {
-      System.arraycopy(other.stack, 0, stack, 0, stack.length);
       System.arraycopy(other.functions, 0, functions, 0, functions.length);
       System.arraycopy(other.backs, 0, backs, 0, backs.length);
       System.arraycopy(other.locals, 0, locals, 0, locals.length);
-      top = other.top;
       pc = other.pc;
-      place = other.place;
       frames = other.frames;
       held = other.held;
       heldFrame = other.heldFrame;

@@ -293,6 +293,17 @@ public final class ProgramsTest {
     }
   }
 
+  /** What one text left behind is nothing to the next one. */
+  private static void afterAnother() {
+    Pagekernel x = Checks.with("F ( ) { while ( 1 ) { if ( a ) break ; G ( )");
+    Checks.due("kind of a text that is not whole", x.kind(0), 1);
+    Checks.write(x, 1, "F ( ) { break ; }");
+    Checks.due("kind of the next one", x.kind(1), 5);
+    Checks.write(x, 2, "F ( ) { G ( ) ; }");
+    Checks.due("kind of the third", x.kind(2), 2);
+    Checks.due("isLocal of the third", x.isLocal(2, 0, 0), -1);
+  }
+
   private static void locality() {
     Pagekernel x = Checks.with("G ( c , a ) { int h ; } F ( ) { b = 1 ; { { int d ; } } int b ; }");
     String names = "abcdefgh";
@@ -325,6 +336,7 @@ public final class ProgramsTest {
     forms();
     deepForms();
     meanings();
+    afterAnother();
     locality();
     Checks.end();
   }

@@ -212,6 +212,15 @@ public final class ReckoningTest {
     }
     Checks.due("CODE", z.ofProcess(1, 7), 7);
     Checks.due("TICKS", z.ofProcess(1, 6), walk.length);
+    // each "break" is that of its own "while"
+    for (int level = 0; level <= 2; level++) {
+      Pagekernel w = Checks.with("F ( ) { while ( 1 ) { if ( a > 2 ) break ; while ( 1 ) { b = b + 1 ; if ( b % 3 == 0 ) break ; while ( 0 ) break ; if ( b == 7 ) break ; } "
+          + "a = a + 1 ; if ( a == 9 ) break ; } put ( a ) ; put ( b ) ; while ( 1 ) break ; put ( 5 ) ; }");
+      w.level(level);
+      w.start(0);
+      w.run(200);
+      Checks.due("loops in loops", w.out(0), "1:3 1:7 1:5");
+    }
     // "return" without E is 0, and it goes to the NAME of the CALL
     Checks.due("returned", Checks.outs("G ( ) { return ; a = 9 ; } H ( a ) { return a + 1 ; } F ( ) { int b ; b = 4 ; a = 3 ; b = G ( ) ; put ( b ) ; a = H ( 7 ) ; "
         + "put ( a ) ; H ( 9 ) ; put ( a ) ; }"), "1:0 1:8 1:8");

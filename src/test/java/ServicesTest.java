@@ -36,6 +36,14 @@ public final class ServicesTest {
     Checks.due("DESCRIPTORS that lead there", w.ofPipe(0, 1) + w.ofPipe(0, 2), 4);
     Checks.due("PROGRAM of the child", w.ofProcess(2, 5), 0);
     Checks.due("TICKS of the child", w.ofProcess(2, 6), 0);
+    // a child of a handler returns from it too
+    Pagekernel u = Checks.begun("H ( a ) { fork ( ) ; } F ( ) { G ( 1 ) ; } G ( b ) { on ( 1 , 2 ) ; kill ( 1 , 1 ) ; while ( 1 ) c = c + 1 ; }", 5);
+    Checks.due("FRAMES", u.ofProcess(1, 1) * 10 + u.ofProcess(2, 1), 22);
+    Checks.due("HELD", u.ofProcess(1, 4) + u.ofProcess(2, 4), 0);
+    Checks.due("where", u.where(1) * 100 + u.where(2), 3939);
+    u.send(2, 1);
+    u.run(9);
+    Checks.due("and it takes the next signal", u.state(3), 1);
     // six PROCESSES, ENDED ones with them
     Checks.due("no seventh", Checks.outs("F ( ) { while ( b > - 1 ) { b = fork ( ) ; if ( b == 0 ) exit ( 1 ) ; a = a + 1 ; } put ( a ) ; }"), "1:6");
     Checks.due("60 PIDS", Checks.outs("F ( ) { while ( b > - 1 ) { b = fork ( ) ; if ( b == 0 ) return 1 ; c = wait ( 0 ) ; if ( c > 0 ) a = c ; } put ( a ) ; }").length(), 0);
@@ -295,6 +303,11 @@ public final class ServicesTest {
     Checks.due("kill an ENDED one", Checks.outs("F ( ) { a = fork ( ) ; if ( a == 0 ) exit ( 0 ) ; pause ( ) ; pause ( ) ; b = kill ( 2 , 3 ) ; put ( b ) ; b = wait ( 0 ) ; b = kill ( 2 , 3 ) ; put ( b ) ; }"),
         "1:-1 1:-1");
     Checks.due("put tells", Checks.outs("F ( ) { a = put ( 5 - 9 ) ; put ( a ) ; }"), "1:-4 1:-4");
+    Pagekernel w = Checks.begun("F ( ) { while ( a < 19 * 19 ) { pid ( ) ; pause ( ) ; a = a + 1 ; } put ( a + 1 ) ; }", 0);
+    for (int i = 0; i < 8; i++) {
+      w.run(200);
+    }
+    Checks.due("what is told to nobody leaves nothing behind", w.out(0), "1:362");
     Checks.due("pid tells", Checks.outs("F ( ) { a = fork ( ) ; a = pid ( ) ; put ( a ) ; }"), "1:1 2:2");
     Checks.due("pause tells", Checks.outs("F ( ) { a = 5 ; a = pause ( ) ; put ( a ) ; }"), "1:0");
     Checks.due("sync tells", Checks.outs("F ( ) { open ( 1 , 1 ) ; write ( 0 , 5 ) ; a = sync ( ) ; put ( a ) ; a = sync ( ) ; put ( a ) ; }"), "1:2 1:0");
