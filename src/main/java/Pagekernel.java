@@ -1675,7 +1675,9 @@ public final class Pagekernel {
       }
       int from = -table[entry] - 1;
       if (from < 0 || from >= ENTRIES) {
-        Arrays.fill(cells, page * PAGE, page * PAGE + PAGE, 0);
+        for (int i = page * PAGE; i < page * PAGE + PAGE; i++) {
+          cells[i] = 0;
+        }
         table[entry] = page + 1;
         uses[page] = 1;
         return;
@@ -1984,7 +1986,9 @@ public final class Pagekernel {
       if (frames < 0 || frames >= MOST_FRAMES) {
         return false;
       }
-      Arrays.fill(locals, frames * NAMES, frames * NAMES + NAMES, 0);
+      for (int i = frames * NAMES; i < frames * NAMES + NAMES; i++) {
+        locals[i] = 0;
+      }
       functions[frames] = function;
       backs[frames] = back;
       for (int i = at(code.parameters, function) - 1; i >= 0; i--) {

@@ -2202,7 +2202,7 @@ public final class AgainstModel {
 
   public static void main(String[] arguments) {
     long first = arguments.length > 0 ? Long.parseLong(arguments[0]) : 1;
-    long many = arguments.length > 1 ? Long.parseLong(arguments[1]) : 3000;
+    long many = arguments.length > 1 ? Long.parseLong(arguments[1]) : 10000;
     int wrong = 0;
     long total = 0;
     Map<String, Integer> counted = new TreeMap<>();
