@@ -1,6 +1,9 @@
+import java.io.IOException;
+import java.nio.file.Files;
+import java.nio.file.Path;
+import java.util.ArrayList;
 import java.util.Arrays;
 import java.util.List;
-import java.util.ArrayList;
 import java.util.Objects;
 
 /** What the tests of the project share: it counts what is wrong and types texts that are written with their signs. */
@@ -8,8 +11,32 @@ final class Checks {
   private static final List<String> SIGNS = signs();
   private static int wrong;
   private static int asked;
+  /** The sentence of the document by which the next answers are due. */
+  private static String about = "";
+  private static String document;
 
   private Checks() {
+  }
+
+  private static String plain(String words) {
+    return words.replaceAll("\\s+", " ").trim();
+  }
+
+  /** What follows is due by this sentence: it stands in the document word for word. */
+  static void sentence(String words) {
+    about = words;
+    if (document == null) {
+      try {
+        document = plain(Files.readString(Path.of("../shared/DOC.md")));
+      } catch (IOException e) {
+        document = "";
+      }
+    }
+    asked++;
+    if (!document.contains(plain(words))) {
+      wrong++;
+      System.out.println("the document does not say: " + words);
+    }
   }
 
   private static List<String> signs() {
@@ -34,8 +61,74 @@ final class Checks {
     asked++;
     if (!Objects.equals(got, want)) {
       wrong++;
-      System.out.println(what + " answered " + got + ", due is " + want);
+      System.out.println((about.isEmpty() ? "" : "[" + about + "] ") + what + " answered " + got + ", due is " + want);
     }
+  }
+
+  /** Makes an object that is always the same one. */
+  interface Maker {
+    Pagekernel make();
+  }
+
+  /** A call and its answer. */
+  interface Call {
+    Object of(Pagekernel x);
+  }
+
+  /** What the call answers, or the class of what it throws. */
+  static Object answer(Pagekernel x, Call call) {
+    try {
+      return call.of(x);
+    } catch (RuntimeException e) {
+      return e.getClass();
+    }
+  }
+
+  /** All that an object tells, as far as asking does not change it. */
+  private static String all(Pagekernel x) {
+    StringBuilder all = new StringBuilder();
+    all.append(x.digest()).append(" inputs ").append(x.inputs());
+    for (int program = 0; program < 4; program++) {
+      all.append(" text ").append(x.text(program));
+    }
+    for (int n = 0; n <= x.house(5); n++) {
+      all.append(" would ").append(x.would(n));
+    }
+    for (int pid = 1; pid <= x.house(8); pid++) {
+      if (x.state(pid) < 3) {
+        all.append(' ').append(x.handler(pid, 1)).append(x.handler(pid, 2)).append(x.waitsIn(pid)).append(x.can(pid)).append(x.children(pid));
+      }
+    }
+    return all.toString();
+  }
+
+  /** The call answers so (or throws it), and changes nothing: a twin without that call tells and does the same. */
+  static void unchanged(String what, Maker maker, Call call, Object want) {
+    Pagekernel x = maker.make();
+    Pagekernel twin = maker.make();
+    due(what, answer(x, call), want);
+    due("all behind " + what, all(x), all(twin));
+    due("FRAMES behind " + what, x.frames(12), twin.frames(12));
+    due("LEVEL behind " + what, x.level(0), twin.level(0));
+    due("TICKS behind " + what, x.run(60), twin.run(60));
+    due("digest() behind " + what + " and TICKS", x.digest(), twin.digest());
+  }
+
+  /** What lies just beyond a least and a most, and as far beyond as 32 bits go. */
+  static int[] beyond(int least, int most) {
+    return new int[] {least - 1, most + 1, Integer.MIN_VALUE, Integer.MAX_VALUE};
+  }
+
+  /** Each of these throws just this, and changes nothing. */
+  static void allRefused(String what, Maker maker, int[] wrong, CallOf call, Class<? extends RuntimeException> want) {
+    for (int value : wrong) {
+      unchanged(what + " with " + value, maker, x -> call.of(x, value), want);
+    }
+  }
+
+  /** A call with one argument that changes from one to the next. */
+  interface CallOf {
+    Object of(Pagekernel x, int value);
   }
 
   /** The call throws just this exception, and nothing has changed behind it. */

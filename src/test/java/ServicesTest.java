@@ -147,7 +147,7 @@ public final class ServicesTest {
     Checks.due("PIPES", x.house(2), 3);
     x.give(1);
     Checks.ticks(x, 7);
-    Checks.due("in the free ones", x.descriptor(1, 1) + x.descriptor(1, 4), "--".equals(x.descriptor(1, 1) + x.descriptor(1, 4)) ? "" : "-w3");
+    Checks.due("in the free ones", x.descriptor(1, 1) + x.descriptor(1, 4), "-w3");
     Checks.due("e", x.cell(1, 12), "0");
     Checks.due("y", x.cell(1, 24) + x.cell(1, 25), "14");
     Checks.due("one free is too few", x.cell(1, 13), "-1");
