@@ -421,6 +421,57 @@ public final class FileEdgesTest {
     }
   }
 
+  /** Pages that are out as they are left: by an end, exec(), a BREAK that goes down, and a child that parts from them. */
+  private static void leftOnTheDisk() {
+    Checks.sentence("each page of the machine's memory is counted as often as it is used, none that two use can be stored to;");
+    String own = "F ( ) { grow ( 8 * 8 ) ; while ( a < 10 ) { x [ a * 8 ] = a + 1 ; a = a + 1 ; } ";
+    String[] leaving = {"get ( y ) ; }", "get ( y ) ; exec ( 1 ) ; }", "get ( y ) ; grow ( - 3 * 19 ) ; get ( y ) ; }", "get ( y ) ; fork ( ) ; get ( y ) ; }", "fork ( ) ; get ( y ) ; h = 5 ; x [ 15 ] = 6 ; get ( y ) ; }",
+      "fork ( ) ; get ( y ) ; grow ( - 8 * 8 ) ; grow ( 8 * 8 ) ; get ( y ) ; }"};
+    for (String leave : leaving) {
+      Pagekernel x = Checks.with(own + leave);
+      Checks.write(x, 1, "F ( ) { get ( y ) ; }");
+      for (int round = 0; round < 9; round++) {
+        int pid = x.start(0);
+        x.run(200);
+        x.press(pid);
+        x.frames(8);
+        Checks.due("isSound() with pages out", x.isSound(), true);
+        x.press(pid);
+        x.give(0);
+        x.give(0);
+        x.run(200);
+        Checks.due("isSound() behind " + leave, x.isSound(), true);
+        x.press(pid);
+        x.press(pid + 1);
+        for (int p = 1; p <= x.house(8); p++) {
+          x.send(p, 3);
+        }
+        x.run(200);
+        Checks.due("all are GONE", x.house(0), 0);
+        Checks.due("isSound() behind the end", x.isSound(), true);
+        x.frames(9 + round);
+      }
+    }
+    Pagekernel y = Checks.with(own + "get ( y ) ; }");
+    y.frames(40);
+    for (int i = 0; i < 6; i++) {
+      y.start(0);
+    }
+    y.run(200);
+    y.run(200);
+    for (int frames = 40; frames >= 8; frames--) {
+      y.frames(frames);
+      Checks.due("isSound() with " + frames + " FRAMES", y.isSound(), true);
+      y.frames(Math.min(40, frames + 5));
+      y.frames(frames);
+    }
+    for (int pid = 1; pid <= 6; pid++) {
+      for (int address = 16; address < 96; address += 8) {
+        Checks.due("cell " + address, y.cell(pid, address), "" + (address / 8 - 1));
+      }
+    }
+  }
+
   // ---- the checksum
 
   private static long mix(long d, Object v) {
@@ -559,6 +610,7 @@ public final class FileEdgesTest {
     fourPipes();
     houseAtItsMost();
     innerThings();
+    leftOnTheDisk();
     digests();
     fiveHundredCalls();
     Checks.end();

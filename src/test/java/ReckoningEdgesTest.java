@@ -157,6 +157,27 @@ public final class ReckoningEdgesTest {
     }
   }
 
+  /** What is reckoned behind a "&&" or "||" has two ways to it. */
+  private static void behindShortWays() {
+    Checks.sentence("A && B is 0 if A is 0, and then B is not reckoned, otherwise 1 or 0 as B is not 0 or 0; A || B likewise 1 if A is not 0.");
+    for (int a = 0; a <= 2; a += 2) {
+      for (int b = 0; b <= 5; b += 5) {
+        int and = a != 0 && b != 0 ? 1 : 0;
+        int or = a != 0 || b != 0 ? 1 : 0;
+        for (String left : new String[] {"" + a, a == 0 ? "b" : "c", "( " + a + " + b )"}) {
+          for (String right : new String[] {"" + b, b == 0 ? "b" : "c", "- " + b, "( " + b + " != 0 )"}) {
+            ends("c = 7 ; put ( ( " + left + " && " + right + " ) + 3 ) ; put ( - ( " + left + " && " + right + " ) ) ; put ( ! ( " + left + " && " + right + " ) ) ; put ( 2 * ( " + left + " && " + right + " ) == 2 ) ;", 0,
+                "1:" + (and + 3) + " 1:" + -and + " 1:" + (1 - and) + " 1:" + and);
+            ends("c = 7 ; put ( ( " + left + " || " + right + " ) + 3 ) ; put ( - ( " + left + " || " + right + " ) ) ; put ( ! ( " + left + " || " + right + " ) ) ; put ( 2 * ( " + left + " || " + right + " ) == 2 ) ;", 0,
+                "1:" + (or + 3) + " 1:" + -or + " 1:" + (1 - or) + " 1:" + or);
+            ends("c = 7 ; put ( ( " + left + " && " + right + " || 0 ) - 1 ) ; put ( ( " + left + " || " + right + " && 1 ) - 1 ) ; if ( ( " + left + " && " + right + " ) + 0 ) put ( 4 ) ; "
+                + "* ( 8 + ( " + left + " || " + right + " ) ) = 9 ; put ( * 8 + * 9 ) ;", 0, "1:" + (and - 1) + " 1:" + (or - 1) + (and == 1 ? " 1:4" : "") + " 1:9");
+          }
+        }
+      }
+    }
+  }
+
   private static void leftToRight() {
     Checks.sentence("E is reckoned from left to right, what stands left of a sign ahead of what stands right.");
     for (String sign : OPERATORS) {
@@ -256,6 +277,12 @@ public final class ReckoningEdgesTest {
       Checks.due("BREAK behind grow(" + growths[i][0] + ")", x.ofProcess(1, 2), growths[i][2]);
       Checks.due("the last cell", x.cell(1, growths[i][2] - 1), "0");
       Checks.due("none behind it", x.cell(1, growths[i][2]), "-");
+    }
+    for (int value : new int[] {1, -1, LEAST, MOST}) {
+      Pagekernel y = Checks.begun("F ( ) { grow ( 5 ) ; get ( y + 12 ) ; grow ( - 1 ) ; a = grow ( 1 ) ; get ( & b ) ; }", 0);
+      y.give(value);
+      y.run(9);
+      Checks.due("a cell that was " + value, y.cell(1, 36) + "/" + y.cell(1, 8), "0/36");
     }
     // a cell that was given back comes again as 0, at each place of a page; those below stay
     for (int end = 33; end <= 96; end++) {
@@ -362,12 +389,33 @@ public final class ReckoningEdgesTest {
     }
   }
 
+  private static void localsInEachFrame() {
+    Checks.sentence("parameters what was told, others 0.");
+    for (int depth = 1; depth <= 11; depth++) {
+      Pagekernel x = Checks.begun("G ( h ) { if ( h < " + depth + " ) G ( h + 1 ) ; else H ( ) ; } H ( ) { int b ; int c ; int e ; int f ; x [ a ] = b * 8 + c * 4 + e * 2 + f + 1 ; a = a + 1 ; b = 1 ; c = 1 ; e = 1 ; f = 1 ; } "
+          + "F ( ) { " + (depth < 11 ? "G ( 1 ) ; G ( 1 ) ;" : "H ( ) ; H ( ) ;") + " get ( y ) ; }", 0);
+      Checks.due("kind", x.kind(0), 0);
+      x.run(200);
+      Checks.due("locals " + depth + " deep, twice", x.state(1) + x.cell(1, 16) + x.cell(1, 17), "211");
+    }
+    // an exec() begins with FRAMES of its own
+    Pagekernel x = Checks.begun("F ( ) { int a ; int b ; a = 5 ; b = 6 ; exec ( 1 ) ; }", 0);
+    Checks.write(x, 1, "F ( ) { int b ; int a ; get ( y ) ; }");
+    x.run(9);
+    Checks.due("behind exec()", x.local(1, 0, 0) + x.local(1, 0, 1), "00");
+    Checks.sentence("A forked PROCESS has DESCRIPTORS that lead to the same OPENINGS.");
+    Pagekernel y = Checks.begun("G ( d , c , b ) { get ( y ) ; } F ( ) { a = fork ( ) ; if ( a == 0 ) G ( 1 , 2 , 3 ) ; while ( 1 ) ; }", 0);
+    y.run(30);
+    Checks.due("parameters of a CALL by a child", y.local(2, 1, 1) + y.local(2, 1, 2) + y.local(2, 1, 3), "321");
+  }
+
   public static void main(String[] arguments) {
     pairs();
     singles();
     typedNumbers();
     divided();
     shortWays();
+    behindShortWays();
     leftToRight();
     addresses();
     cellsThatAreTold();
@@ -375,6 +423,7 @@ public final class ReckoningEdgesTest {
     twelveFrames();
     traps();
     localsAtFirst();
+    localsInEachFrame();
     Checks.end();
   }
 }

@@ -146,6 +146,9 @@ public final class ServiceEdgesTest {
       }
       Checks.due("nothing else", x.ofProcess(1, 2) + "/" + x.ofProcess(1, 5) + "/" + x.cell(1, 11) + "/" + x.handler(1, 1) + "/" + x.descriptor(1, 0), "37/0/7/3/f1@0:1");
     }
+    Pagekernel e = Checks.begun("F ( ) { a = fork ( ) ; if ( a == 0 ) exit ( 9 ) ; pause ( ) ; pause ( ) ; b = exec ( 4 ) ; c = exec ( 3 ) ; get ( y ) ; }", 0);
+    e.run(60);
+    Checks.due("with a child that is ENDED", e.cell(1, 9) + e.cell(1, 10) + e.state(2) + e.children(1), "-1-132");
     Checks.sentence("Otherwise the PROCESS has that PROGRAM, all cells 0, BREAK 32, one FRAME of F, no handlers, nothing HELD; DESCRIPTORS and signals stay; it begins with F.");
     for (int p = 0; p < 4; p++) {
       Pagekernel x = new Pagekernel();
@@ -186,6 +189,24 @@ public final class ServiceEdgesTest {
     Checks.due("SLOTS", x.ofProcess(3, 11) * 10 + x.ofProcess(4, 11), 21);
     x.run(200);
     Checks.due("by PIDS", x.out(0), "1:3 1:18 1:4 1:17");
+    // those that are not ENDED stand in nobody's way, whatever their PIDS
+    Pagekernel w = Checks.begun("F ( ) { b = fork ( ) ; if ( b == 0 ) while ( 1 ) ; b = fork ( ) ; if ( b == 0 ) get ( y ) ; b = fork ( ) ; if ( b == 0 ) exit ( 6 ) ; a = wait ( & c ) ; get ( y ) ; }", 0);
+    w.run(90);
+    Checks.due("the ENDED one", w.cell(1, 8) + w.cell(1, 10) + "/" + w.children(1) + "/" + w.state(4), "46/2 3/4");
+    // a child in SLOT 0
+    Pagekernel v = Checks.with("F ( ) { }");
+    Checks.write(v, 1, "F ( ) { get ( y ) ; a = fork ( ) ; if ( a == 0 ) exit ( 7 ) ; b = wait ( & c ) ; get ( y ) ; }");
+    Checks.write(v, 2, "F ( ) { get ( y ) ; }");
+    v.start(2);
+    v.start(1);
+    v.run(9);
+    v.send(1, 3);
+    v.run(9);
+    v.give(0);
+    Checks.ticks(v, 2);
+    Checks.due("its SLOT", v.ofProcess(3, 11), 0);
+    v.run(60);
+    Checks.due("it is waited for", v.cell(2, 9) + v.cell(2, 10) + v.state(3), "374");
     Pagekernel y = Checks.begun("F ( ) { b = fork ( ) ; if ( b == 0 ) { get ( y ) ; exit ( 9 ) ; } d = 6 ; a = wait ( 0 ) ; put ( a ) ; put ( d ) ; }", 0);
     y.run(60);
     Checks.due("it WAITS", y.state(1) * 100 + y.waitsIn(1), 200 + Checks.token("wait"));
@@ -235,6 +256,34 @@ public final class ServiceEdgesTest {
     Checks.due("three", x.house(2) + "/" + x.ofPipe(1, 0), "3/-1");
     Checks.ticks(x, 1);
     Checks.due("the smallest that is not there", x.cell(1, 10) + x.descriptor(1, 2) + x.descriptor(1, 3) + x.house(2), "0r1w14");
+  }
+
+  private static void pipesApart() {
+    Checks.sentence("A PIPE (0 to 3, the smallest that is not there) is there as long as a DESCRIPTOR leads to one of its ends; it holds 4 cells at most.");
+    for (int end = 0; end < 2; end++) {
+      Pagekernel x = Checks.begun("F ( ) { pipe ( x ) ; write ( 1 , 5 ) ; write ( 1 , 6 ) ; close ( " + end + " ) ; get ( y ) ; close ( " + (1 - end) + " ) ; pipe ( x ) ; get ( y ) ; }", 0);
+      x.run(9);
+      Checks.due("cells with one end", x.inPipe(0), "5 6");
+      x.give(0);
+      x.run(9);
+      Checks.due("a new one", x.inPipe(0) + "/" + x.ofPipe(0, 0), "/0");
+    }
+    Pagekernel y = Checks.begun("F ( ) { pipe ( x ) ; write ( 1 , 5 ) ; get ( y ) ; }", 0);
+    y.run(9);
+    y.crash(0, false);
+    y.start(0);
+    Checks.ticks(y, 1);
+    Checks.due("a new one behind a crash", y.inPipe(0), "");
+    Pagekernel z = Checks.begun("F ( ) { pipe ( x ) ; pipe ( x + 2 ) ; pipe ( x + 4 ) ; while ( a < 4 ) { write ( 1 , a + 10 ) ; write ( 3 , a + 14 ) ; write ( 5 , a + 18 ) ; a = a + 1 ; } while ( 1 ) { get ( & b ) ; read ( b , & c ) ; } }", 0);
+    z.run(60);
+    String[] due = {"10 11 12 13", "14 15 16 17", "18 19 20 21"};
+    for (int d : new int[] {2, 0, 4, 4, 2, 0}) {
+      z.give(d);
+      z.run(9);
+      Checks.due("taken out", z.cell(1, 10), due[d / 2].split(" ")[0]);
+      due[d / 2] = due[d / 2].substring(3);
+      Checks.due("each for itself", z.inPipe(0) + "/" + z.inPipe(1) + "/" + z.inPipe(2), String.join("/", due));
+    }
   }
 
   private static void pipeReads() {
@@ -460,6 +509,14 @@ public final class ServiceEdgesTest {
     x.send(2, 3);
     x.run(9);
     Checks.due("BODIES", x.house(4), 0);
+    Pagekernel z = asked(times("open ( 1 , 1 ) ; unlink ( 1 ) ;", 6), "close ( a )");
+    int left = 6;
+    for (int d : new int[] {3, 5, 0, 4, 2, 1}) {
+      Checks.due("BODIES", z.house(4), left);
+      asks(z, "close", d, 0, 0);
+      left--;
+      Checks.due("BODIES", z.house(4), left);
+    }
     Pagekernel y = Checks.begun("F ( ) { open ( 6 , 1 ) ; write ( 0 , 4 ) ; unlink ( 6 ) ; open ( 6 , 1 ) ; write ( 0 , 5 ) ; get ( y ) ; }", 0);
     y.run(9);
     Checks.due("another one with its name", y.inFile(6) + y.descriptor(1, 0) + y.descriptor(1, 1), "f-@2:1f6@0:1");
@@ -511,6 +568,14 @@ public final class ServiceEdgesTest {
     Checks.due("told to READY, WAITING, itself, ENDED", x.cell(1, 9) + x.cell(1, 10) + x.cell(1, 11) + x.cell(1, 12), "000-1");
     x.run(60);
     Checks.due("ended by them", x.ofProcess(4, 7) * 1000 + x.ofProcess(3, 7), 101102);
+    for (int s = 1; s <= 3; s++) {
+      for (String child : new String[] {"while ( 1 ) ;", "get ( y ) ;"}) {
+        Pagekernel z = Checks.begun("F ( ) { a = fork ( ) ; if ( a == 0 ) { while ( 1 ) { " + child + " } } pause ( ) ; b = kill ( a , " + s + " ) ; c = kill ( a , " + s + " ) ; d = wait ( & e ) ; get ( y ) ; }", 0);
+        z.run(60);
+        Checks.due("kill with " + s, z.cell(1, 9) + z.cell(1, 10) + z.cell(1, 11) + "/" + z.cell(1, 12), "002/" + (100 + s));
+        Checks.due("its WHY", z.ofProcess(2, 8), 5);
+      }
+    }
     Pagekernel y = Checks.with("I ( a ) { c = c + 1 ; } F ( ) { on ( 1 , 3 ) ; b = pid ( ) ; a = fork ( ) ; if ( a == 0 ) { kill ( b , 1 ) ; kill ( b , 1 ) ; kill ( b , 1 ) ; exit ( 0 ) ; } pause ( ) ; wait ( 0 ) ; get ( & h ) ; }");
     y.quantum(10);
     y.start(0);
@@ -707,6 +772,7 @@ public final class ServiceEdgesTest {
     execs();
     waits();
     pipes();
+    pipesApart();
     pipeReads();
     pipeWrites();
     opens();

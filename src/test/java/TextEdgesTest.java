@@ -544,6 +544,33 @@ public final class TextEdgesTest {
     }
   }
 
+  /** What was asked before tells nothing of a TEXT that has changed since. */
+  private static void askedAgain() {
+    Checks.sentence("Returns KIND of its ERROR.");
+    Pagekernel x = Checks.with("F ( ) {");
+    Checks.due("not whole", x.kind(0) * 100 + x.error(0), 104);
+    x.type(0, Checks.token("}"), -1, -1, -1, -1);
+    Checks.due("whole by type", x.kind(0) * 100 + x.error(0), -1);
+    Checks.due("start", x.start(0), 1);
+    x.type(0, Checks.token("}"), -1, -1, -1, -1);
+    Checks.due("wrong by type", x.kind(0) * 100 + x.error(0), 105);
+    Checks.due("no start", x.start(0), -9);
+    x.drop(0, 1);
+    Checks.due("whole by drop", x.kind(0) * 100 + x.error(0), -1);
+    x.drop(0, 1);
+    Checks.due("wrong by drop", x.kind(0) * 100 + x.error(0), 104);
+    x.sample(0, 0);
+    Checks.due("whole by sample", x.kind(0) * 100 + x.error(0), -1);
+    Checks.due("isLocal", x.isLocal(0, 0, 0), 1);
+    x.change(0, 5, Checks.token("b"));
+    Checks.due("isLocal by change", x.isLocal(0, 0, 0) * 10 + x.isLocal(0, 0, 1), 1);
+    x.change(0, 26, Checks.token("{"));
+    Checks.due("wrong by change", x.kind(0) * 100 + x.error(0), 127);
+    Checks.due("isLocal of a wrong one", x.isLocal(0, 0, 1), -1);
+    x.change(0, 26, Checks.token("}"));
+    Checks.due("whole by change", x.kind(0) * 100 + x.error(0), -1);
+  }
+
   public static void main(String[] arguments) {
     emptyAndFull();
     fullTextsRun();
@@ -565,6 +592,7 @@ public final class TextEdgesTest {
     firstInTheOrderOfPlaces();
     fiveAtATime();
     othersInPlace();
+    askedAgain();
     Checks.end();
   }
 }
