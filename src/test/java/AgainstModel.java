@@ -2179,7 +2179,7 @@ public final class AgainstModel {
   }
 
   private boolean go() {
-    int many = dice.isOne(3) ? 500 : 60 + dice.below(200);
+    int many = dice.isOne(3) ? 440 : 60 + dice.below(200);
     for (int i = 0; i < 2; i++) {
       if (!typeWhole(i, new Writer(dice).any())) {
         return false;

@@ -196,6 +196,64 @@ final class Checks {
     return x.out(0);
   }
 
+  private static long mix(long d, Object v) {
+    if (v instanceof String) {
+      long mixed = d;
+      for (char sign : ((String) v).toCharArray()) {
+        mixed = mixed * 31 + sign;
+      }
+      return mixed;
+    }
+    return d * 31 + (Integer) v;
+  }
+
+  /** By the other calls, with an object for each PROCESS: no object has more than 512 calls. */
+  static long digestOf(Maker maker) {
+    Pagekernel x = maker.make();
+    long d = 7605;
+    for (int what = 0; what <= 13; what++) {
+      d = mix(d, x.house(what));
+    }
+    for (int what = 0; what <= 2; what++) {
+      d = mix(d, x.turn(what));
+    }
+    for (int program = 0; program < 4; program++) {
+      d = mix(mix(d, x.error(program)), x.kind(program));
+    }
+    for (int pid = 1; pid <= x.house(8); pid++) {
+      d = mixProcess(d, x.state(pid) < 3 ? maker.make() : x, pid);
+    }
+    for (int pipe = 0; pipe < 4; pipe++) {
+      d = mix(d, x.inPipe(pipe));
+    }
+    d = mix(mix(d, x.would(0)), x.would(x.house(5)));
+    d = mix(d, x.out(Math.max(0, x.house(10) - 20)));
+    return mix(d, x.isSound() ? 1 : 0);
+  }
+
+  private static long mixProcess(long before, Pagekernel x, int pid) {
+    long d = mix(before, x.state(pid));
+    for (int what = 0; what <= 11; what++) {
+      d = mix(d, x.ofProcess(pid, what));
+    }
+    d = mix(d, x.where(pid));
+    if (x.state(pid) == 1 || x.state(pid) == 2) {
+      for (int address = 8; address <= 95; address++) {
+        d = mix(d, x.cell(pid, address));
+      }
+      for (int frame = 0; frame < x.ofProcess(pid, 1); frame++) {
+        d = mix(d, x.function(pid, frame));
+        for (int name = 0; name < 8; name++) {
+          d = mix(d, x.local(pid, frame, name));
+        }
+      }
+      for (int descriptor = 0; descriptor < 6; descriptor++) {
+        d = mix(d, x.descriptor(pid, descriptor));
+      }
+    }
+    return d;
+  }
+
   static void end() {
     System.out.println(asked + " answers, " + wrong + " wrong");
     if (wrong != 0) {

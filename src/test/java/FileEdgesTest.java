@@ -474,67 +474,9 @@ public final class FileEdgesTest {
 
   // ---- the checksum
 
-  private static long mix(long d, Object v) {
-    if (v instanceof String) {
-      long mixed = d;
-      for (char sign : ((String) v).toCharArray()) {
-        mixed = mixed * 31 + sign;
-      }
-      return mixed;
-    }
-    return d * 31 + (Integer) v;
-  }
-
-  /** By the other calls, with an object for each PROCESS: no object has more than 512 calls. */
-  private static long digestOf(Checks.Maker maker) {
-    Pagekernel x = maker.make();
-    long d = 7605;
-    for (int what = 0; what <= 13; what++) {
-      d = mix(d, x.house(what));
-    }
-    for (int what = 0; what <= 2; what++) {
-      d = mix(d, x.turn(what));
-    }
-    for (int program = 0; program < 4; program++) {
-      d = mix(mix(d, x.error(program)), x.kind(program));
-    }
-    for (int pid = 1; pid <= x.house(8); pid++) {
-      d = mixProcess(d, x.state(pid) < 3 ? maker.make() : x, pid);
-    }
-    for (int pipe = 0; pipe < 4; pipe++) {
-      d = mix(d, x.inPipe(pipe));
-    }
-    d = mix(mix(d, x.would(0)), x.would(x.house(5)));
-    d = mix(d, x.out(Math.max(0, x.house(10) - 20)));
-    return mix(d, x.isSound() ? 1 : 0);
-  }
-
-  private static long mixProcess(long before, Pagekernel x, int pid) {
-    long d = mix(before, x.state(pid));
-    for (int what = 0; what <= 11; what++) {
-      d = mix(d, x.ofProcess(pid, what));
-    }
-    d = mix(d, x.where(pid));
-    if (x.state(pid) == 1 || x.state(pid) == 2) {
-      for (int address = 8; address <= 95; address++) {
-        d = mix(d, x.cell(pid, address));
-      }
-      for (int frame = 0; frame < x.ofProcess(pid, 1); frame++) {
-        d = mix(d, x.function(pid, frame));
-        for (int name = 0; name < 8; name++) {
-          d = mix(d, x.local(pid, frame, name));
-        }
-      }
-      for (int descriptor = 0; descriptor < 6; descriptor++) {
-        d = mix(d, x.descriptor(pid, descriptor));
-      }
-    }
-    return d;
-  }
-
   private static void digests() {
     Checks.sentence("A number d starts with 7605; then d becomes d * 31 + v, which wraps around as a 64-bit integer, for each v in this order (of a text the codes of its signs):");
-    Checks.due("of a new object", new Pagekernel().digest(), digestOf(Pagekernel::new));
+    Checks.due("of a new object", new Pagekernel().digest(), Checks.digestOf(Pagekernel::new));
     Checks.sentence("the last 20 OUTS by out() (from 0 on, if there are fewer);");
     for (int many : new int[] {0, 1, 2, 19, 20, 21, 22}) {
       Checks.Maker maker = () -> {
@@ -543,7 +485,7 @@ public final class FileEdgesTest {
         x.run(200);
         return x;
       };
-      Checks.due("with " + many + " OUTS", maker.make().digest(), digestOf(maker));
+      Checks.due("with " + many + " OUTS", maker.make().digest(), Checks.digestOf(maker));
     }
     String[] texts = {"F ( ) { pipe ( x ) ; open ( 7 , 1 ) ; write ( 2 , - 1 ) ; write ( 1 , 5 ) ; fork ( ) ; while ( 1 ) { grow ( 1 ) ; put ( 3 ) ; } }",
       "I ( a , h ) { int c ; while ( 1 ) c = c + a ; } F ( ) { I ( - 9 , 9 ) ; }", "F ( ) { fork ( ) ; fork ( ) ; a = pid ( ) ; if ( a > 2 ) exit ( - a ) ; wait ( & b ) ; get ( & b ) ; a = 1 / c ; }",
@@ -561,10 +503,10 @@ public final class FileEdgesTest {
           x.knock();
           return x;
         };
-        Checks.due(text + " behind " + 3 * ticks, maker.make().digest(), digestOf(maker));
+        Checks.due(text + " behind " + 3 * ticks, maker.make().digest(), Checks.digestOf(maker));
       }
     }
-    Checks.due("behind a crash", stepped(50).digest(), digestOf(() -> stepped(50)));
+    Checks.due("behind a crash", stepped(50).digest(), Checks.digestOf(() -> stepped(50)));
   }
 
   // ---- 512 calls
@@ -593,8 +535,8 @@ public final class FileEdgesTest {
       Checks.due("digest() again", y.digest(), first);
     }
     Pagekernel z = new Pagekernel();
-    for (int i = 0; i < 500; i++) {
-      Checks.due("a crash of a thousand ACTS", i % 2 == 0 ? z.store(i % 8, i) > 0 || z.remove(i % 8) == 1 : z.crash(z.house(5), true) >= 0, true);
+    for (int i = 0; i < 240; i++) {
+      Checks.due("a crash of many", i % 2 == 0 ? z.store(i % 8, i) > 0 || z.remove(i % 8) == 1 : z.crash(z.house(5), true) >= 0, true);
     }
     Checks.due("isSound()", z.isSound(), true);
   }

@@ -264,8 +264,8 @@ public final class OutsideTest {
       x.frames(way % 2 == 0 ? 8 : 40);
       x.level(way % 3);
       x.start(0);
-      for (int i = 0; i < 100; i++) {
-        x.run(7);
+      for (int i = 0; i < 40; i++) {
+        x.run(19);
         if (way > 1) {
           x.press(1 + i % 4);
         }
@@ -290,61 +290,7 @@ public final class OutsideTest {
     }
   }
 
-  private static long mix(long d, Object v) {
-    if (v instanceof String) {
-      long mixed = d;
-      for (char sign : ((String) v).toCharArray()) {
-        mixed = mixed * 31 + sign;
-      }
-      return mixed;
-    }
-    return d * 31 + (Integer) v;
-  }
-
-  /** The digest as the document says it, by the other calls. */
-  private static long digest(Pagekernel x) {
-    long d = 7605;
-    for (int what = 0; what <= 13; what++) {
-      d = mix(d, x.house(what));
-    }
-    for (int what = 0; what <= 2; what++) {
-      d = mix(d, x.turn(what));
-    }
-    for (int program = 0; program < 4; program++) {
-      d = mix(mix(d, x.error(program)), x.kind(program));
-    }
-    for (int pid = 1; pid <= x.house(8); pid++) {
-      d = mix(d, x.state(pid));
-      for (int what = 0; what <= 11; what++) {
-        d = mix(d, x.ofProcess(pid, what));
-      }
-      d = mix(d, x.where(pid));
-      if (x.state(pid) == 1 || x.state(pid) == 2) {
-        for (int address = 8; address <= 95; address++) {
-          d = mix(d, x.cell(pid, address));
-        }
-        for (int frame = 0; frame < x.ofProcess(pid, 1); frame++) {
-          d = mix(d, x.function(pid, frame));
-          for (int name = 0; name < 8; name++) {
-            d = mix(d, x.local(pid, frame, name));
-          }
-        }
-        for (int descriptor = 0; descriptor < 6; descriptor++) {
-          d = mix(d, x.descriptor(pid, descriptor));
-        }
-      }
-    }
-    for (int pipe = 0; pipe < 4; pipe++) {
-      d = mix(d, x.inPipe(pipe));
-    }
-    d = mix(mix(d, x.would(0)), x.would(x.house(5)));
-    d = mix(d, x.out(Math.max(0, x.house(10) - 20)));
-    return mix(d, x.isSound() ? 1 : 0);
-  }
-
-  private static void digests() {
-    Pagekernel empty = new Pagekernel();
-    Checks.due("digest of a new object", empty.digest(), digest(empty));
+  private static Pagekernel samplesFor(int rounds, boolean isCrashed) {
     Pagekernel x = new Pagekernel();
     for (int k = 0; k < 4; k++) {
       x.sample(k, new int[] {3, 7, 5, 4}[k]);
@@ -352,16 +298,26 @@ public final class OutsideTest {
     }
     x.start(3);
     Checks.write(x, 0, "F ( ) { break ; }");
-    for (int i = 0; i < 60; i++) {
-      Checks.due("digest " + i, x.digest(), digest(x));
+    for (int i = 0; i < rounds; i++) {
       x.run(3);
       x.knock();
       if (i % 7 == 0) {
         x.send(i % 5 + 1, i % 2 + 1);
       }
     }
-    x.crash(x.house(5) / 2, true);
-    Checks.due("digest behind a crash", x.digest(), digest(x));
+    if (isCrashed) {
+      x.crash(x.house(5) / 2, true);
+    }
+    return x;
+  }
+
+  private static void digests() {
+    Checks.due("digest of a new object", new Pagekernel().digest(), Checks.digestOf(Pagekernel::new));
+    for (int i = 0; i < 60; i++) {
+      int rounds = i;
+      Checks.due("digest " + i, samplesFor(i, false).digest(), Checks.digestOf(() -> samplesFor(rounds, false)));
+      Checks.due("digest behind a crash", samplesFor(i, true).digest(), Checks.digestOf(() -> samplesFor(rounds, true)));
+    }
   }
 
   public static void main(String[] arguments) {

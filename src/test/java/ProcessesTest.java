@@ -152,7 +152,7 @@ public final class ProcessesTest {
     for (int i = 0; i < 6; i++) {
       y.start(0);
     }
-    for (int i = 0; i < 130; i++) {
+    for (int i = 0; i < 62; i++) {
       y.step();
       for (int pid = 1; pid <= 6; pid++) {
         most = Math.max(most, y.ofProcess(pid, 10));

@@ -299,8 +299,8 @@ public final class PromisesTest {
     Pagekernel x = Checks.begun("G ( a ) { int d ; d = a * 3 ; if ( a < 11 ) G ( a + 1 ) ; else { fork ( ) ; } get ( y ) ; } H ( a ) { } F ( ) { grow ( 8 * 8 ) ; while ( b < 12 * 8 - 16 ) { x [ b ] = b + 1 ; b = b + 1 ; } "
         + "on ( 2 , 2 ) ; b = 0 ; while ( b < 6 ) { open ( b , 3 ) ; b = b + 1 ; } G ( 1 ) ; }", 0);
     Checks.due("kind", x.kind(0), 0);
-    for (int i = 0; i < 400 && x.house(8) == 1; i++) {
-      x.step();
+    for (int i = 0; i < 120 && x.house(8) == 1; i++) {
+      x.run(4);
     }
     Checks.due("FRAMES", x.ofProcess(1, 1) + "/" + x.ofProcess(2, 1), "12/12");
     for (int address = 8; address < 96; address++) {

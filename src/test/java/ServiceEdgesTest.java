@@ -154,7 +154,7 @@ public final class ServiceEdgesTest {
       Pagekernel x = new Pagekernel();
       Checks.write(x, p, "G ( ) { get ( y ) ; } F ( ) { int h ; G ( ) ; }");
       int from = (p + 1) % 4;
-      Checks.write(x, from, "I ( a ) { int h ; a = 0 ; h = 8 ; while ( a < 12 * 8 - 8 ) { x [ a - 8 ] = 5 ; a = a + 1 ; } exec ( " + p + " ) ; } F ( ) { grow ( 8 * 8 ) ; on ( 1 , 3 ) ; on ( 2 , 3 ) ; "
+      Checks.write(x, from, "I ( a ) { int h ; a = 0 ; h = 8 ; while ( a < 12 * 8 - 8 ) { x [ a - 8 ] = 5 ; a = a + 5 ; } exec ( " + p + " ) ; } F ( ) { grow ( 8 * 8 ) ; on ( 1 , 3 ) ; on ( 2 , 3 ) ; "
           + "a = pid ( ) ; pipe ( x ) ; kill ( a , 1 ) ; ; }");
       x.start(from);
       x.run(7);
