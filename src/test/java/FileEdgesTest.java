@@ -472,6 +472,37 @@ public final class FileEdgesTest {
     }
   }
 
+  /** One of two that share a page stores, and all FRAMES are in use: the page that goes out must not be the shared one. */
+  private static void partedWithoutRoom() {
+    Checks.sentence("none that two use can be stored to; each cell of MEMORY of each PROCESS, if all its pages went out and came in again, is what it was;");
+    // just as many pages as FRAMES at the fork, and then a store to each, in the order that two INPUTS tell
+    String text = "F ( ) { int c ; int d ; int e ; grow ( 8 * 5 ) ; d = 16 ; while ( d < 8 * 9 ) { * d = d ; d = d + 8 ; } get ( & b ) ; get ( & g ) ; c = fork ( ) ; e = pid ( ) ; d = 0 ; "
+        + "while ( d < 8 ) { * ( 15 + ( b + d * g ) % 8 * 8 ) = d * 2 + e ; d = d + 1 ; } get ( & f ) ; }";
+    for (int first = 0; first < 8; first++) {
+      for (int stride = 1; stride < 8; stride += 2) {
+        Pagekernel x = Checks.with(text);
+        Checks.due("kind", x.kind(0), 0);
+        x.frames(8 + stride / 6);
+        x.quantum(first % 2 == 0 ? 10 : 1);
+        x.start(0);
+        x.give(first);
+        x.give(stride);
+        for (int i = 0; i < 80; i++) {
+          x.run(2);
+        }
+        Checks.due("both WAIT", x.house(8) * 10 + x.house(1), 20);
+        Checks.due("isSound()", x.isSound(), true);
+        for (int pid = 1; pid <= 2; pid++) {
+          for (int d = 0; d < 8; d++) {
+            int page = (first + d * stride) % 8 * 8;
+            Checks.due("the cell that was stored, " + first + " by " + stride, x.cell(pid, 15 + page), "" + (d * 2 + pid));
+            Checks.due("one beside it", x.cell(pid, 8 + page), page == 0 ? "0" : "" + (8 + page));
+          }
+        }
+      }
+    }
+  }
+
   // ---- the checksum
 
   private static void digests() {
@@ -553,6 +584,7 @@ public final class FileEdgesTest {
     houseAtItsMost();
     innerThings();
     leftOnTheDisk();
+    partedWithoutRoom();
     digests();
     fiveHundredCalls();
     Checks.end();
