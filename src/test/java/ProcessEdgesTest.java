@@ -208,6 +208,23 @@ public final class ProcessEdgesTest {
     Checks.due("the greatest CODE", v.ofProcess(1, 7), Integer.MAX_VALUE);
   }
 
+  /** Far more STATEMENTS of each kind than a TEXT has TOKENS leave nothing behind them. */
+  private static void manyStatements() {
+    Checks.sentence("A TICK of a PROCESS is one of these:");
+    for (int level = 0; level <= 2; level++) {
+      Pagekernel x = Checks.with("G ( d ) { if ( b ) return 3 ; return d && b || 0 ; } F ( ) { while ( a < 19 * 19 ) { if ( b ) ; if ( a ) ; else ; while ( b ) ; while ( 1 ) break ; G ( a ) ; c = G ( a ) ; pid ( ) ; "
+          + "a = a + 1 ; } put ( 9 - ( 7 - ( 5 - a ) ) ) ; put ( c ) ; }");
+      Checks.due("kind", x.kind(0), 0);
+      x.level(level);
+      x.start(0);
+      for (int i = 0; i < 100 && x.run(200) == 200; i++) {
+        Checks.due("READY", x.state(1), 1);
+      }
+      Checks.due("OUTS", x.out(0), "1:-354 1:0");
+      Checks.due("CODE and WHY", x.ofProcess(1, 7) * 10 + x.ofProcess(1, 8), 1);
+    }
+  }
+
   // ---- TICKS and turns
 
   private static String turns(Pagekernel x, int many) {
@@ -559,6 +576,7 @@ public final class ProcessEdgesTest {
     endOfAFamily();
     nothingToBegin();
     returns();
+    manyStatements();
     eachQuantum();
     quantumChanges();
     waitersAndTurns();

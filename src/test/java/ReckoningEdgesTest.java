@@ -170,6 +170,9 @@ public final class ReckoningEdgesTest {
                 "1:" + (and + 3) + " 1:" + -and + " 1:" + (1 - and) + " 1:" + and);
             ends("c = 7 ; put ( ( " + left + " || " + right + " ) + 3 ) ; put ( - ( " + left + " || " + right + " ) ) ; put ( ! ( " + left + " || " + right + " ) ) ; put ( 2 * ( " + left + " || " + right + " ) == 2 ) ;", 0,
                 "1:" + (or + 3) + " 1:" + -or + " 1:" + (1 - or) + " 1:" + or);
+            // what stands left of it stays where it is
+            ends("c = 7 ; put ( 5 - ( " + left + " && " + right + " ) ) ; put ( 5 - ( " + left + " || " + right + " ) ) ; put ( 9 - ( 5 - ( " + left + " && " + right + " ) ) ) ; G ( 4 , " + left + " && " + right
+                + " ) ; G ( " + left + " || " + right + " , 4 ) ;", 0, "1:" + (5 - and) + " 1:" + (5 - or) + " 1:" + (4 + and) + " 1:4 1:" + or);
             ends("c = 7 ; put ( ( " + left + " && " + right + " || 0 ) - 1 ) ; put ( ( " + left + " || " + right + " && 1 ) - 1 ) ; if ( ( " + left + " && " + right + " ) + 0 ) put ( 4 ) ; "
                 + "* ( 8 + ( " + left + " || " + right + " ) ) = 9 ; put ( * 8 + * 9 ) ;", 0, "1:" + (and - 1) + " 1:" + (or - 1) + (and == 1 ? " 1:4" : "") + " 1:9");
           }

@@ -172,6 +172,28 @@ public final class ServiceEdgesTest {
     }
   }
 
+  /** A PROCESS may become another one as often as it likes. */
+  private static void manyExecs() {
+    Checks.sentence("Otherwise the PROCESS has that PROGRAM, all cells 0, BREAK 32, one FRAME of F, no handlers, nothing HELD; DESCRIPTORS and signals stay; it begins with F.");
+    for (int level = 0; level <= 2; level++) {
+      Pagekernel x = Checks.with("G ( a ) { if ( a < 3 ) return 1 ; return a * 2 ; } F ( ) { get ( & a ) ; if ( a ) exec ( 0 ) ; while ( b < 5 ) { c = c + b ; b = b + 1 ; } c = G ( c ) ; put ( c ) ; get ( & a ) ; exec ( 0 ) ; }");
+      x.level(level);
+      x.start(0);
+      for (int i = 0; i < 60; i++) {
+        x.give(1);
+        x.run(9);
+      }
+      // each time get, if, exec, and a get that WAITS
+      Checks.due("TICKS", x.house(6), 60 * 4);
+      x.give(0);
+      x.give(1);
+      x.give(0);
+      x.run(200);
+      Checks.due("OUTS", x.out(0), "1:20 1:20");
+      Checks.due("isSound()", x.isSound(), true);
+    }
+  }
+
   private static void waits() {
     Checks.sentence("wait(a): a is an ADDRESS, or 0. -1 without children that are READY, WAITING or ENDED.");
     eachTells("", "wait ( a )", -1, new int[] {0, 8, 31}, new int[] {0});
@@ -498,6 +520,9 @@ public final class ServiceEdgesTest {
       Checks.due("no ACT", x.house(5), 3);
     }
     Checks.sentence("Its BODY is there as long as it is open somewhere.");
+    Pagekernel w = Checks.begun("F ( ) { open ( 1 , 1 ) ; unlink ( 1 ) ; pipe ( x ) ; write ( 2 , 5 ) ; close ( 1 ) ; close ( 2 ) ; get ( y ) ; }", 6);
+    Checks.due("whatever else is closed", w.house(4) + "/" + w.house(13) + "/" + w.house(2) + "/" + w.descriptor(1, 0), "1/1/0/f-@0:1");
+    Checks.due("a new FILE has a BODY of its own", w.store(1, 9) * 10 + w.house(4), 12);
     Pagekernel x = Checks.begun("F ( ) { open ( 6 , 1 ) ; fork ( ) ; get ( y ) ; }", 0);
     x.run(9);
     x.remove(6);
@@ -770,6 +795,7 @@ public final class ServiceEdgesTest {
     openings();
     forks();
     execs();
+    manyExecs();
     waits();
     pipes();
     pipesApart();
