@@ -272,6 +272,7 @@ public final class ChangesTest {
     }
     does("", "b = kill ( 4 , 0 ) ;", "2 local 2 b=-1");
     does("", "b = kill ( 4 , 4 ) ;", "2 local 2 b=-1");
+    Checks.sentence("on(s, k): section 5.");
     Checks.sentence("on(s, k): s 1 or 2; k 0 (no handler), or 1 to 3 (G, H, I), if that is defined in its PROGRAM with one parameter: the handler of s is that; it tells the one before (0 at first); -1 otherwise.");
     does("", "b = on ( 1 , 3 ) ;", "2 local 2 b=0", "2 handler 1=3");
     does("", "b = on ( 2 , 0 ) ;", "2 local 2 b=3", "2 handler 2=0");
@@ -317,9 +318,14 @@ public final class ChangesTest {
 
   // ---- calls from outside
 
+  /** PROCESS 2 has had a TICK more, in which 4 CAN GO ON: there is an INPUT, and 4 is IDLE. */
+  private static Checks.Maker inTurn() {
+    return busy("", "; ;", x -> x.give(70), x -> x.step());
+  }
+
   /** With the call just this changes; what it answers is due, too. */
   private static void changes(String what, Checks.Call call, Object answer, String... changes) {
-    Checks.Maker maker = busy("", ";", x -> x.give(70));
+    Checks.Maker maker = inTurn();
     TreeMap<String, String> due = before(maker);
     Told.apply(due, changes);
     Checks.due(what, Checks.answer(maker.make(), call), answer);
@@ -378,13 +384,13 @@ public final class ChangesTest {
     changes("knock", x -> x.knock(), 3, "knocks=3");
     changes("start of an ERROR", x -> x.start(2), -9);
     Checks.sentence("A PROCESS begins, with the parent 0; if F has no STATEMENT that begins, it returns at once.");
-    changes("start and all of it again", x -> x.start(1) * 10 + x.send(5, 3) + x.step() * 0, 51, begun());
+    changes("start, a signal to it, and a TICK of another one", x -> x.start(1) * 100 + x.send(5, 3) * 10 + x.step(), 512, begun());
   }
 
   /** What is told of the new PROCESS, and what its only TICK (PROCESS 2 has its turn still) changed. */
   private static String[] begun() {
     TreeMap<String, String> due = new TreeMap<>();
-    Checks.Maker maker = busy("", ";", x -> x.give(70));
+    Checks.Maker maker = inTurn();
     TreeMap<String, String> before = before(maker);
     TreeMap<String, String> ticked = Told.ticked(before, 2);
     for (String name : ticked.keySet()) {
@@ -392,7 +398,7 @@ public final class ChangesTest {
         due.put(name, ticked.get(name));
       }
     }
-    due.put("2 where", "" + (many(AHEAD) + 1));
+    due.put("2 where", "" + (many(AHEAD) + 2));
     String[] of = {"STATE=1", "parent=0", "FRAMES=1", "BREAK=32", "signals=4", "HELD=0", "PROGRAM=1", "TICKS=0", "CODE=0", "WHY=0", "DESCRIPTORS=0", "IDLE=1", "SLOT=4", "waitsIn=-1", "handler 1=0",
       "handler 2=0"};
     for (String change : of) {

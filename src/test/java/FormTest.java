@@ -439,7 +439,7 @@ public final class FormTest {
   }
 
   private static void manyTexts(int many) {
-    Checks.sentence("KIND 1: the place (from 0 on) of the first TOKEN with which, behind those ahead of it, no TEXT of this form, of whatever length, could begin; how many TOKENS there are, if it is just not whole. "
+    Checks.sentence("ERROR of a TEXT: KIND 1: the place (from 0 on) of the first TOKEN with which, behind those ahead of it, no TEXT of this form, of whatever length, could begin; how many TOKENS there are, if it is just not whole. "
         + "If the form is right, the first of these in the order of places: 2 a FUNCTION is called that is not defined (its place); 3 a CALL has more or fewer E than what is called takes (the place of the FUNCTION or "
         + "SERVICE; a FUNCTION by its first DEFINITION); 4 a NAME behind \"&\" is LOCAL (the place of the NAME); 5 \"break\" in no \"while\" (its place); 6 a FUNCTION is defined a second time (the place of it there); 7 a "
         + "NAME is told a second time in a FUNCTION, as parameter or by \"int\" (its place); without one of these 8, if F is not defined, or has parameters (the place is how many TOKENS there are). KIND 0: no ERROR "
@@ -462,7 +462,10 @@ public final class FormTest {
 
   /** The SAMPLES, and each of them with each of its TOKENS left out, or told twice. */
   private static void samples() {
-    Checks.sentence("Its form (what stands in quotes are TOKENS; [ ] may be left out, { } may stand any number of times, | one of both):");
+    Checks.sentence("Its form (what stands in quotes are TOKENS; [ ] may be left out, { } may stand any number of times, | one of both): TEXT: DEFINITION { DEFINITION }. DEFINITION: FUNCTION \"(\" [ NAME { \",\" NAME } ] \")\" "
+        + "BLOCK. BLOCK: \"{\" { STATEMENT } \"}\". STATEMENT: BLOCK | \"int\" NAME \";\" | \";\" | \"if\" \"(\" E \")\" STATEMENT [ \"else\" STATEMENT ] | \"while\" \"(\" E \")\" STATEMENT | \"break\" \";\" | \"return\" [ E ] \";\" "
+        + "| CALL \";\" | NAME \"=\" CALL \";\" | NAME \"=\" E \";\" | ROW \"[\" E \"]\" \"=\" E \";\" | \"*\" UNARY \"=\" E \";\".");
+    Checks.sentence("CALL: FUNCTION or SERVICE, \"(\" [ E { \",\" E } ] \")\".");
     Map<Integer, Integer> seen = new TreeMap<>();
     for (int k = 0; k < 8; k++) {
       Pagekernel x = new Pagekernel();

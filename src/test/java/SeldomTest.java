@@ -465,7 +465,128 @@ public final class SeldomTest {
     }
   }
 
+  /** The last PIDS are told of as the first ones are. */
+  private static void lastPids() {
+    Checks.sentence("with a PID (1, 2, 3, ... as they begin; at most 60 in all),");
+    Pagekernel x = Checks.with("F ( ) { }");
+    Checks.write(x, 1, "F ( ) { a = fork ( ) ; if ( ! a ) get ( y ) ; b = fork ( ) ; if ( ! b ) exit ( 5 ) ; c = fork ( ) ; put ( c ) ; while ( 1 ) d = wait ( & e ) ; }");
+    for (int pid = 1; pid <= 57; pid++) {
+      x.start(0);
+    }
+    Checks.due("start", x.start(1), 58);
+    Checks.due("whose TICK would be next", x.turn(2), 58);
+    for (int i = 0; i < 40 && x.state(60) == 0; i++) {
+      x.step();
+    }
+    Checks.due("a family", x.children(58) + "/" + x.ofProcess(59, 0) + "/" + x.ofProcess(60, 0) + "/" + x.house(8), "59 60/58/58/60");
+    x.run(60);
+    Checks.due("no PID is left", x.out(0), "58:-1");
+    Checks.due("the ENDED one is waited for", x.cell(58, 11) + "/" + x.cell(58, 12) + "/" + x.state(58) + x.state(59) + x.state(60) + "/" + x.waitsIn(58), "60/5/224/" + Checks.token("wait"));
+    Checks.due("told of 59", x.ofProcess(59, 11) + "/" + x.where(59) + "/" + x.can(59) + "/" + x.press(59) + "/" + x.waitsIn(59), "1/15/false/1/" + Checks.token("get"));
+    x.give(4);
+    Checks.due("with an INPUT", x.can(59) + "/" + x.turn(2), "true/59");
+    Checks.due("its TICK", x.step() + "/" + x.cell(59, 24) + "/" + x.turn(0), "59/4/59");
+    x.send(58, 3);
+    for (int i = 0; i < 40 && x.state(58) != 4; i++) {
+      x.step();
+    }
+    Checks.due("nobody's then", x.ofProcess(59, 0) + "/" + x.ofProcess(60, 0) + "/" + x.children(58), "0/0/");
+    for (int ended = 0; ended <= 2; ended++) {
+      int last = ended;
+      Checks.Maker maker = () -> {
+        Pagekernel y = Checks.with("F ( ) { }");
+        Checks.write(y, 1, "F ( ) { a = fork ( ) ; if ( a ) { while ( 1 ) ; } b = fork ( ) ; if ( b ) get ( y ) ; get ( y ) ; }");
+        for (int pid = 1; pid <= 57; pid++) {
+          y.start(0);
+        }
+        y.start(1);
+        y.run(40);
+        y.send(58 + last, 3);
+        y.run(20);
+        return y;
+      };
+      Checks.due("digest() with the last PIDS", maker.make().digest(), Checks.digestOf(maker));
+    }
+    // two orphans: none is waited for by another one
+    Pagekernel z = Checks.with("F ( ) { }");
+    Checks.write(z, 1, "F ( ) { get ( y ) ; }");
+    Checks.write(z, 2, "F ( ) { a = fork ( ) ; if ( ! a ) while ( 1 ) ; a = wait ( 0 ) ; b = wait ( 0 ) ; get ( y ) ; }");
+    for (int pid = 1; pid <= 56; pid++) {
+      z.start(0);
+    }
+    z.start(1);
+    z.start(1);
+    z.start(2);
+    z.run(20);
+    Checks.due("the last PID comes next", z.turn(2) + "/" + z.step(), "60/60");
+    z.send(60, 3);
+    z.run(20);
+    Checks.due("its own child, and no other one", z.cell(59, 8) + "/" + z.cell(59, 9) + "/" + z.state(57) + z.state(58) + z.state(59) + z.state(60), "60/-1/2224");
+  }
+
+  private static void farValues() {
+    Checks.sentence("the FRAME is gone, the value goes to the NAME of the CALL, if there is one, and the PROCESS GOES ON behind that (also at once, in the same TICK).");
+    for (int level = 0; level <= 2; level++) {
+      for (int deep = 1; deep <= 11; deep++) {
+        Pagekernel x = Checks.with("G ( a , h ) { int d ; if ( a > 1 ) d = G ( a - 1 , h * 19 ) ; else d = h ; put ( d ) ; return - d - a ; } F ( ) { int d ; d = G ( " + deep + " , 19 ) ; put ( d ) ; }");
+        x.level(level);
+        x.start(0);
+        x.run(200);
+        int value = 19;
+        for (int i = 1; i < deep; i++) {
+          value *= 19;
+        }
+        StringBuilder due = new StringBuilder("1:" + value);
+        for (int a = 1; a <= deep; a++) {
+          value = -value - a;
+          due.append(" 1:").append(value);
+        }
+        Checks.due(deep + " FRAMES deep", x.out(0), due.toString());
+      }
+    }
+    Checks.sentence("Returns the place in its TEXT of the first TOKEN of the STATEMENT that begins next, or in which it WAITS;");
+    Pagekernel y = Checks.begun("F ( ) { " + times(";", 150) + "get ( y ) ; }", 0);
+    for (int place = 4; place <= 154; place++) {
+      Checks.due("where", y.where(1), place);
+      y.step();
+    }
+    Checks.due("WAITING at the end of a full TEXT", y.length(0) + "/" + y.where(1) + "/" + y.state(1), "160/154/2");
+  }
+
+  /** What is open or closed as ACTS are SYNCED. */
+  private static void openAsActsAreSynced() {
+    Checks.sentence("That a FILE is made, and that one with cells is emptied (all positions in it become 0), are ACTS.");
+    for (int before = 0; before <= 19; before++) {
+      Pagekernel x = Checks.begun("F ( ) { open ( 1 , 1 ) ; write ( 0 , 4 ) ; write ( 0 , 5 ) ; open ( 1 , 0 ) ; read ( 1 , & a ) ; open ( 1 , 3 ) ; write ( 2 , 6 ) ; close ( 2 ) ; get ( y ) ; open ( 1 , 2 ) ; get ( y ) ; }", 9);
+      x.store(2, 0);
+      x.store(3, 0);
+      x.sync();
+      for (int i = 0; x.house(5) < before; i++) {
+        x.store(2 + i % 2, i);
+      }
+      Checks.due("positions", x.descriptor(1, 0) + " " + x.descriptor(1, 1) + " " + x.inFile(1), "f1@2:1 f1@1:0 4 5 6");
+      x.give(0);
+      x.run(9);
+      Checks.due("positions with " + before + " ACTS ahead of it", x.descriptor(1, 0) + " " + x.descriptor(1, 1) + " " + x.descriptor(1, 2) + " " + x.inFile(1) + x.house(5), "f1@0:1 f1@0:0 f1@0:2 " + (before + 1) % 20);
+      Pagekernel y = Checks.begun("F ( ) { open ( 1 , 1 ) ; write ( 0 , 4 ) ; open ( 2 , 1 ) ; get ( y ) ; close ( 0 ) ; close ( 1 ) ; get ( y ) ; }", 4);
+      y.store(2, 3);
+      y.store(3, 0);
+      y.store(4, 0);
+      y.sync();
+      for (int i = 0; y.house(5) < before; i++) {
+        y.store(3 + i % 2, i);
+      }
+      String now = y.would(before);
+      y.give(0);
+      y.run(9);
+      Checks.due("to close is no ACT and changes no FILE", y.would(before) + y.house(5) + y.house(13) + y.inFile(1) + y.inFile(2), now + before + "043");
+    }
+  }
+
   public static void main(String[] arguments) {
+    lastPids();
+    farValues();
+    openAsActsAreSynced();
     eachProgram();
     deepE();
     farCodes();
