@@ -17,10 +17,6 @@ public final class ChangesTest {
   private static final String BEHIND = "h = 1 ; } F ( ) { c = fork ( ) ; if ( c ) wait ( 0 ) ; on ( 2 , 3 ) ; pipe ( x ) ; open ( 3 , 1 ) ; write ( 2 , 5 ) ; write ( 1 , 6 ) ; c = fork ( ) ; "
       + "if ( ! c ) return 4 ; d = fork ( ) ; if ( ! d ) get ( y ) ; G ( ) ; }";
 
-  private static int many(String text) {
-    return text.trim().isEmpty() ? 0 : text.trim().split(" +").length;
-  }
-
   /** A call that is no answer. */
   private interface Act {
     void on(Pagekernel x);
@@ -48,7 +44,7 @@ public final class ChangesTest {
   /** The machine as PROCESS 2 is to have the TICK with which the STATEMENT behind those of pre begins; then it is prepared. */
   private static Checks.Maker busy(String pre, String statement, Act... prepared) {
     Pagekernel scout = typed(pre, statement);
-    int place = many(AHEAD) + many(pre);
+    int place = Checks.many(AHEAD) + Checks.many(pre);
     int ticks = 0;
     while (ticks < 120 && !(scout.state(2) == 1 && scout.where(2) == place && scout.turn(2) == 2)) {
       scout.step();
@@ -85,7 +81,7 @@ public final class ChangesTest {
   private static void does(String pre, String statement, String... changes) {
     Checks.Maker maker = busy(pre, statement);
     TreeMap<String, String> due = Told.ticked(before(maker), 2);
-    Told.apply(due, "2 where=" + (many(AHEAD) + many(pre) + many(statement)));
+    Told.apply(due, "2 where=" + (Checks.many(AHEAD) + Checks.many(pre) + Checks.many(statement)));
     Told.apply(due, changes);
     Told.same(pre + " " + statement, Told.of(stepped(maker)), due);
   }
@@ -116,17 +112,17 @@ public final class ChangesTest {
     does("", "* ( y + 16 ) = 1 ;", "2 cell 40=1");
     does("", "if ( 0 ) ;");
     does("", "while ( 0 ) ;");
-    does("", "if ( b ) a = 1 ;", "2 where=" + (many(AHEAD) + 4));
-    does("", "while ( b ) a = 1 ;", "2 where=" + (many(AHEAD) + 4));
-    does("", "if ( ! b ) ; else { { a = 1 ; } }", "2 where=" + (many(AHEAD) + 9));
+    does("", "if ( b ) a = 1 ;", "2 where=" + (Checks.many(AHEAD) + 4));
+    does("", "while ( b ) a = 1 ;", "2 where=" + (Checks.many(AHEAD) + 4));
+    does("", "if ( ! b ) ; else { { a = 1 ; } }", "2 where=" + (Checks.many(AHEAD) + 9));
     does("while ( 1 )", "break ;");
-    does("while ( 1 ) {", "a = 3 ; }", "2 local 2 a=3", "2 where=" + many(AHEAD));
+    does("while ( 1 ) {", "a = 3 ; }", "2 local 2 a=3", "2 where=" + Checks.many(AHEAD));
     Checks.sentence("FRAMES of a PROCESS: one for each CALL of a FUNCTION that has not returned, that of F first;");
     does("", "I ( 4 ) ;", "2 FRAMES=4", "2 function 3=3", "2 local 3 a=4", "2 local 3 b=0", "2 where=8");
-    does("", "h = G ( ) ;", "2 FRAMES=4", "2 function 3=1", "2 where=" + (many(AHEAD) + 6 + many("get ( y ) ; } G ( ) {")));
-    int back = many(AHEAD) + many(IN_G);
+    does("", "h = G ( ) ;", "2 FRAMES=4", "2 function 3=1", "2 where=" + (Checks.many(AHEAD) + 6 + Checks.many("get ( y ) ; } G ( ) {")));
+    int back = Checks.many(AHEAD) + Checks.many(IN_G);
     for (String end : new String[] {"return ;", "return b ;"}) {
-      does("", end, "2 FRAMES=2", "2 function 2=-1", "2 local 2 a=-", "2 local 2 b=-", "2 HELD=0", "2 where=" + (back + many(end)));
+      does("", end, "2 FRAMES=2", "2 function 2=-1", "2 local 2 a=-", "2 local 2 b=-", "2 HELD=0", "2 where=" + (back + Checks.many(end)));
     }
     Checks.sentence("TRAPS: 1 an ADDRESS that is not OWN is read or stored to;");
     ends("", "b = 1 / 0 ;", 202, 3);
@@ -156,13 +152,13 @@ public final class ChangesTest {
     Checks.Maker maker = busy("", "b = fork ( ) ;");
     TreeMap<String, String> before = before(maker);
     TreeMap<String, String> due = Told.ticked(before, 2);
-    Told.apply(due, "2 where=" + (many(AHEAD) + 6), "2 local 2 b=5");
+    Told.apply(due, "2 where=" + (Checks.many(AHEAD) + 6), "2 local 2 b=5");
     for (Map.Entry<String, String> told : before.entrySet()) {
       if (told.getKey().startsWith("2 ")) {
         due.put("5 " + told.getKey().substring(2), told.getValue());
       }
     }
-    Told.apply(due, "5 parent=2", "5 signals=0", "5 TICKS=0", "5 IDLE=0", "5 SLOT=4", "5 local 2 b=0", "5 where=" + (many(AHEAD) + 6), "PIDS=5", "ends of pipe 0=3 3");
+    Told.apply(due, "5 parent=2", "5 signals=0", "5 TICKS=0", "5 IDLE=0", "5 SLOT=4", "5 local 2 b=0", "5 where=" + (Checks.many(AHEAD) + 6), "PIDS=5", "ends of pipe 0=3 3");
     Told.same("fork", Told.of(stepped(maker)), due);
     Checks.sentence("exec(p): -1 if p is not 0 to 3, or the TEXT of the PROGRAM p has an ERROR.");
     for (String p : new String[] {"- 1", "4", "2", "3"}) {
@@ -180,7 +176,7 @@ public final class ChangesTest {
         due.put("2 local " + frame + " " + Checks.sign(20 + name), frame == 0 && name == 7 ? "0" : "-");
       }
     }
-    Told.apply(due, "2 PROGRAM=1", "2 BREAK=32", "2 FRAMES=1", "2 HELD=0", "2 handler 1=0", "2 handler 2=0", "2 where=" + many("I ( b ) { } F ( ) { int h ;"));
+    Told.apply(due, "2 PROGRAM=1", "2 BREAK=32", "2 FRAMES=1", "2 HELD=0", "2 handler 1=0", "2 handler 2=0", "2 where=" + Checks.many("I ( b ) { } F ( ) { int h ;"));
     Told.same("exec", Told.of(stepped(maker)), due);
   }
 
@@ -195,7 +191,7 @@ public final class ChangesTest {
 
   /** It WAITS in that, and nothing else changes. */
   private static void waitsIn(String pre, String statement, String service) {
-    does(pre, statement, "2 STATE=2", "2 can=false", "2 waitsIn=" + Checks.token(service), "2 where=" + (many(AHEAD) + many(pre)));
+    does(pre, statement, "2 STATE=2", "2 can=false", "2 waitsIn=" + Checks.token(service), "2 where=" + (Checks.many(AHEAD) + Checks.many(pre)));
   }
 
   private static void pipeCalls() {
@@ -284,7 +280,7 @@ public final class ChangesTest {
     ended(busy("", ";", x -> x.send(2, 3)), "signal 3", 103, 5);
     // with nothing HELD the signals 1 and 2 are taken
     Checks.Maker maker = busy("on ( 1 , 3 ) ;", "return 0 ;", x -> x.step(), x -> Checks.due("HELD", x.ofProcess(2, 4), 0), x -> x.send(2, 2));
-    int rest = many(AHEAD) + many("on ( 1 , 3 ) ; return 0 ;") + many(IN_G);
+    int rest = Checks.many(AHEAD) + Checks.many("on ( 1 , 3 ) ; return 0 ;") + Checks.many(IN_G);
     does(maker, "signals 1 and 2 with handlers", "2 signals=2", "2 HELD=1", "2 FRAMES=3", "2 function 2=3", "2 local 2 a=1", "2 local 2 b=0", "2 where=8");
     Checks.due("where it rested", maker.make().where(2), rest);
     ended(busy("", "return 0 ;", x -> x.step()), "signal 1 without a handler", 101, 5);
@@ -296,7 +292,7 @@ public final class ChangesTest {
     Checks.sentence("get(a): WAITS without INPUTS; the first one is taken out and stored; 1.");
     waitsIn("", "b = get ( & h ) ;", "get");
     Checks.Maker maker = busy("", "b = get ( & h ) ;", x -> x.give(70), x -> x.give(71));
-    int next = many(AHEAD) + many("b = get ( & h ) ;");
+    int next = Checks.many(AHEAD) + Checks.many("b = get ( & h ) ;");
     does(maker, "get", "2 local 2 b=1", "2 cell 15=70", "inputs=71", "2 where=" + next);
     maker = busy("", "b = get ( & h ) ;", x -> x.give(LEAST));
     does(maker, "get of the last one", "2 local 2 b=1", "2 cell 15=" + LEAST, "inputs=", "2 where=" + next, "4 can=false");
@@ -398,13 +394,13 @@ public final class ChangesTest {
         due.put(name, ticked.get(name));
       }
     }
-    due.put("2 where", "" + (many(AHEAD) + 2));
+    due.put("2 where", "" + (Checks.many(AHEAD) + 2));
     String[] of = {"STATE=1", "parent=0", "FRAMES=1", "BREAK=32", "signals=4", "HELD=0", "PROGRAM=1", "TICKS=0", "CODE=0", "WHY=0", "DESCRIPTORS=0", "IDLE=1", "SLOT=4", "waitsIn=-1", "handler 1=0",
       "handler 2=0"};
     for (String change : of) {
       Told.apply(due, "5 " + change);
     }
-    due.put("5 where", "" + many("I ( b ) { } F ( ) { int h ;"));
+    due.put("5 where", "" + Checks.many("I ( b ) { } F ( ) { int h ;"));
     for (int address = 8; address <= 95; address++) {
       due.put("5 cell " + address, address < 32 ? "0" : "-");
     }

@@ -148,6 +148,29 @@ final class Checks {
   static final Class<IllegalArgumentException> ARGUMENT = IllegalArgumentException.class;
   static final Class<IllegalStateException> STATE = IllegalStateException.class;
 
+  /** A part of a text so many times. */
+  static String times(String part, int many) {
+    StringBuilder all = new StringBuilder();
+    for (int i = 0; i < many; i++) {
+      all.append(part).append(' ');
+    }
+    return all.toString();
+  }
+
+  /** How many TOKENS a text has. */
+  static int many(String text) {
+    return text.trim().isEmpty() ? 0 : text.trim().split(" +").length;
+  }
+
+  /** STATE of each PROCESS, by PIDS. */
+  static String states(Pagekernel x) {
+    StringBuilder all = new StringBuilder();
+    for (int pid = 1; pid <= x.house(8); pid++) {
+      all.append(x.state(pid));
+    }
+    return all.toString();
+  }
+
   /** Types a text anew, one TOKEN a call where it must be, five otherwise. */
   static void write(Pagekernel x, int program, String text) {
     x.drop(program, x.length(program));

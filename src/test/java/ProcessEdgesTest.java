@@ -4,14 +4,6 @@ public final class ProcessEdgesTest {
   private static final String FAMILY = "F ( ) { int b ; open ( 1 , 1 ) ; b = fork ( ) ; if ( b == 0 ) exit ( 4 ) ; b = fork ( ) ; if ( b == 0 ) exit ( 5 ) ; wait ( 0 ) ; b = fork ( ) ; if ( b == 0 ) while ( 1 ) ; "
       + "b = fork ( ) ; if ( b == 0 ) get ( & a ) ; while ( 1 ) ; }";
 
-  private static String states(Pagekernel x) {
-    StringBuilder all = new StringBuilder();
-    for (int pid = 1; pid <= x.house(8); pid++) {
-      all.append(x.state(pid));
-    }
-    return all.toString();
-  }
-
   private static String each(Pagekernel x, int what) {
     StringBuilder all = new StringBuilder();
     for (int pid = 1; pid <= x.house(8); pid++) {
@@ -34,7 +26,7 @@ public final class ProcessEdgesTest {
     x.send(4, 3);
     x.send(1, 3);
     x.run(20);
-    Checks.due("STATES", states(x), "411414");
+    Checks.due("STATES", Checks.states(x), "411414");
     for (int i = 7; i <= 9; i++) {
       Checks.due("start", x.start(0), i);
     }
@@ -50,7 +42,7 @@ public final class ProcessEdgesTest {
     y.send(2, 3);
     y.send(5, 3);
     y.run(20);
-    Checks.due("STATES", states(y), "242242");
+    Checks.due("STATES", Checks.states(y), "242242");
     y.give(1);
     Checks.ticks(y, 2);
     Checks.due("the first child", y.ofProcess(7, 11), 1);
@@ -67,12 +59,12 @@ public final class ProcessEdgesTest {
     Checks.sentence("3 ENDED (its parent has not waited for it; it has its SLOT still), 4 GONE.");
     Pagekernel x = Checks.begun("F ( ) { while ( b > - 1 ) { b = fork ( ) ; if ( b == 0 ) exit ( 1 ) ; } get ( & a ) ; wait ( 0 ) ; get ( & a ) ; }", 0);
     x.run(200);
-    Checks.due("STATES", states(x), "233333");
+    Checks.due("STATES", Checks.states(x), "233333");
     Checks.due("SLOTS", each(x, 11), "0 1 2 3 4 5");
     Checks.due("a seventh", Checks.answer(x, y -> y.start(0)), Checks.STATE);
     x.give(0);
     x.run(200);
-    Checks.due("STATES", states(x), "243333");
+    Checks.due("STATES", Checks.states(x), "243333");
     Checks.due("room for one", x.start(0), 7);
     Checks.due("in its SLOT", x.ofProcess(7, 11), 1);
     Checks.due("a seventh", Checks.answer(x, y -> y.start(0)), Checks.STATE);
@@ -117,14 +109,14 @@ public final class ProcessEdgesTest {
         + "its parent is 0.");
     Pagekernel x = Checks.begun(FAMILY, 0);
     x.run(60);
-    Checks.due("STATES", states(x), "14312");
+    Checks.due("STATES", Checks.states(x), "14312");
     Checks.due("parents", each(x, 0), "0 1 1 1 1");
     Checks.due("SLOTS", each(x, 11), "0 -1 2 1 3");
     Checks.due("children", x.children(1), "3 4 5");
     Checks.due("OPENINGS", x.house(13), 1);
     x.send(1, 3);
     x.run(9);
-    Checks.due("STATES", states(x), "44412");
+    Checks.due("STATES", Checks.states(x), "44412");
     Checks.due("parents", each(x, 0), "0 0 0 0 0");
     Checks.due("SLOTS", each(x, 11), "-1 -1 -1 1 3");
     Checks.due("children", x.children(1), "");
@@ -133,7 +125,7 @@ public final class ProcessEdgesTest {
     x.give(1);
     x.send(4, 3);
     x.run(9);
-    Checks.due("without a parent GONE at once", states(x), "44441");
+    Checks.due("without a parent GONE at once", Checks.states(x), "44441");
     Checks.due("one has it open", x.descriptor(5, 0), "f1@0:1");
     x.send(5, 3);
     x.run(9);
@@ -141,12 +133,12 @@ public final class ProcessEdgesTest {
     // a parent that is ENDED or GONE itself
     Pagekernel y = Checks.begun("F ( ) { a = fork ( ) ; if ( a ) while ( 1 ) ; a = fork ( ) ; if ( a ) exit ( 3 ) ; while ( 1 ) ; }", 0);
     y.run(40);
-    Checks.due("STATES", states(y), "131");
+    Checks.due("STATES", Checks.states(y), "131");
     Checks.due("parents", each(y, 0), "0 1 0");
     Checks.due("children", y.children(1) + "/" + y.children(2), "2/");
     y.send(3, 3);
     y.run(9);
-    Checks.due("STATES", states(y), "134");
+    Checks.due("STATES", Checks.states(y), "134");
   }
 
   private static void nothingToBegin() {
@@ -548,7 +540,7 @@ public final class ProcessEdgesTest {
     Checks.due("none", x.children(1), "");
     x.run(60);
     Checks.due("not in the order of SLOTS", x.children(1), "3 4 5");
-    Checks.due("STATES of them", states(x).substring(2), "312");
+    Checks.due("STATES of them", Checks.states(x).substring(2), "312");
     Checks.due("none of theirs", x.children(3) + x.children(4) + x.children(5), "");
     Checks.due("none of who is GONE", x.children(2), "");
     Pagekernel y = Checks.begun("F ( ) { while ( a < 5 ) { a = a + 1 ; b = fork ( ) ; if ( b == 0 ) while ( 1 ) ; } while ( 1 ) ; }", 0);

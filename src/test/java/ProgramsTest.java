@@ -218,28 +218,20 @@ public final class ProgramsTest {
     error("F ( ) { return ; return - 1 ; F ( ) ; a = F ( ) ; }", 0, -1);
   }
 
-  private static String times(String part, int many) {
-    StringBuilder all = new StringBuilder();
-    for (int i = 0; i < many; i++) {
-      all.append(part).append(' ');
-    }
-    return all.toString();
-  }
-
   /** What nests as deep as 160 TOKENS can, and one TOKEN short of its end. */
   private static void deepForms() {
-    error("F ( ) { a = " + times("(", 73) + "1 " + times(")", 73) + "; }", 0, -1);
-    error(("F ( ) { a = " + times("(", 154)).trim(), 1, 160);
-    error("F ( ) { a = " + times("-", 151) + "1 ; }", 0, -1);
-    error(("F ( ) { " + times("{", 78) + times("}", 78)).trim(), 1, 160);
-    error(("F ( ) { " + times("{", 77) + times("}", 78)).trim(), 0, -1);
-    error(("F ( ) { " + times("if ( 1 )", 38) + "; }").trim(), 0, -1);
-    error(("F ( ) { " + times("while ( 1 )", 38) + "break ; }").trim(), 0, -1);
-    error(("F ( ) { a = " + times("x [", 50) + "1 " + times("]", 50) + "; }").trim(), 0, -1);
-    error(("F ( ) { a = " + times("1 * (", 37) + "1 " + times(")", 37) + "; }").trim(), 0, -1);
-    error(("F ( ) { a = " + times("1 || ( 2 && (", 18) + "1 " + times(") )", 18) + "; }").trim(), 0, -1);
-    Checks.due("what nests", Checks.outs("F ( ) { a = " + times("( 1 +", 35) + "1 " + times(")", 35) + "; put ( a ) ; }"), "1:36");
-    Checks.due("what turns", Checks.outs("F ( ) { a = " + times("-", 145) + "1 ; put ( a ) ; }"), "1:-1");
+    error("F ( ) { a = " + Checks.times("(", 73) + "1 " + Checks.times(")", 73) + "; }", 0, -1);
+    error(("F ( ) { a = " + Checks.times("(", 154)).trim(), 1, 160);
+    error("F ( ) { a = " + Checks.times("-", 151) + "1 ; }", 0, -1);
+    error(("F ( ) { " + Checks.times("{", 78) + Checks.times("}", 78)).trim(), 1, 160);
+    error(("F ( ) { " + Checks.times("{", 77) + Checks.times("}", 78)).trim(), 0, -1);
+    error(("F ( ) { " + Checks.times("if ( 1 )", 38) + "; }").trim(), 0, -1);
+    error(("F ( ) { " + Checks.times("while ( 1 )", 38) + "break ; }").trim(), 0, -1);
+    error(("F ( ) { a = " + Checks.times("x [", 50) + "1 " + Checks.times("]", 50) + "; }").trim(), 0, -1);
+    error(("F ( ) { a = " + Checks.times("1 * (", 37) + "1 " + Checks.times(")", 37) + "; }").trim(), 0, -1);
+    error(("F ( ) { a = " + Checks.times("1 || ( 2 && (", 18) + "1 " + Checks.times(") )", 18) + "; }").trim(), 0, -1);
+    Checks.due("what nests", Checks.outs("F ( ) { a = " + Checks.times("( 1 +", 35) + "1 " + Checks.times(")", 35) + "; put ( a ) ; }"), "1:36");
+    Checks.due("what turns", Checks.outs("F ( ) { a = " + Checks.times("-", 145) + "1 ; put ( a ) ; }"), "1:-1");
   }
 
   private static void meanings() {

@@ -7,22 +7,6 @@ public final class SeldomTest {
   private static final int MOST = Integer.MAX_VALUE;
   private static final String LOOP = "F ( ) { while ( 1 ) ; }";
 
-  private static String times(String part, int many) {
-    StringBuilder all = new StringBuilder();
-    for (int i = 0; i < many; i++) {
-      all.append(part).append(' ');
-    }
-    return all.toString();
-  }
-
-  private static String states(Pagekernel x) {
-    StringBuilder all = new StringBuilder();
-    for (int pid = 1; pid <= x.house(8); pid++) {
-      all.append(x.state(pid));
-    }
-    return all.toString();
-  }
-
   // ---- TEXTS and E
 
   private static void eachProgram() {
@@ -46,14 +30,14 @@ public final class SeldomTest {
     for (int level = 0; level <= 2; level++) {
       for (int deep = 0; deep <= 13; deep++) {
         // five that stand left wait in each ROW for what stands right; x [ 0 ] is 1 and x [ 1 ] is 0
-        Pagekernel x = Checks.with("F ( ) { x [ 0 ] = 1 ; put ( " + times("1 == 1 < 1 + 1 * x [", deep) + "0 " + times("]", deep) + ") ; }");
+        Pagekernel x = Checks.with("F ( ) { x [ 0 ] = 1 ; put ( " + Checks.times("1 == 1 < 1 + 1 * x [", deep) + "0 " + Checks.times("]", deep) + ") ; }");
         x.level(level);
         x.start(0);
         x.run(9);
         Checks.due(deep + " deep", x.out(0), "1:" + deep % 2);
       }
       for (int deep = 0; deep <= 36; deep++) {
-        Pagekernel x = Checks.with("F ( ) { a = 1 ; put ( " + times("( a -", deep) + "a " + times(")", deep) + ") ; }");
+        Pagekernel x = Checks.with("F ( ) { a = 1 ; put ( " + Checks.times("( a -", deep) + "a " + Checks.times(")", deep) + ") ; }");
         x.level(level);
         x.start(0);
         x.run(9);
@@ -93,7 +77,7 @@ public final class SeldomTest {
       for (int to = 1; to <= 5; to++) {
         Pagekernel x = Checks.begun("F ( ) { while ( a < 3 ) { b = fork ( ) ; if ( b ) a = 9 ; else a = a + 1 ; } b = pid ( ) ; get ( & d ) ; c = 9 ; if ( b == " + from + " ) c = kill ( " + to + " , 2 ) ; while ( 1 ) get ( & d ) ; }", 0);
         x.run(150);
-        Checks.due("all WAIT", states(x), "2222");
+        Checks.due("all WAIT", Checks.states(x), "2222");
         Checks.due("a line of children", x.children(1) + x.children(2) + x.children(3) + x.children(4), "234");
         for (int i = 0; i < 4; i++) {
           x.give(i);
@@ -178,7 +162,7 @@ public final class SeldomTest {
     x.send(1, 2);
     x.send(1, 1);
     Checks.ticks(x, 2);
-    Checks.due("two PROCESSES", states(x) + "/" + x.ofProcess(1, 4) + x.ofProcess(2, 4) + "/" + x.ofProcess(1, 3) + x.ofProcess(2, 3) + "/" + x.handler(2, 1), "11/11/30/3");
+    Checks.due("two PROCESSES", Checks.states(x) + "/" + x.ofProcess(1, 4) + x.ofProcess(2, 4) + "/" + x.ofProcess(1, 3) + x.ofProcess(2, 3) + "/" + x.handler(2, 1), "11/11/30/3");
     x.send(2, 1);
     for (int i = 0; i < 20 && (x.ofProcess(2, 4) == 1 || x.ofProcess(1, 4) == 1) && x.ofProcess(2, 1) > 1; i++) {
       x.step();
@@ -213,16 +197,16 @@ public final class SeldomTest {
     Checks.sentence("with a signal that is to be taken it tells -1 (the signal is not taken by that), otherwise it is done; and it GOES ON.");
     Pagekernel x = Checks.begun("I ( b ) { } F ( ) { on ( 1 , 3 ) ; d = fork ( ) ; if ( ! d ) { get ( y ) ; exit ( 6 ) ; } a = wait ( & c ) ; e = wait ( & c ) ; get ( y ) ; }", 0);
     x.run(60);
-    Checks.due("both WAIT", states(x), "22");
+    Checks.due("both WAIT", Checks.states(x), "22");
     x.give(1);
     Checks.ticks(x, 1);
     x.send(1, 1);
     Checks.ticks(x, 1);
-    Checks.due("the child is ENDED", states(x) + "/" + x.can(1), "23/true");
+    Checks.due("the child is ENDED", Checks.states(x) + "/" + x.can(1), "23/true");
     Checks.ticks(x, 1);
-    Checks.due("-1, and it is not waited for", x.cell(1, 8) + "/" + x.cell(1, 10) + "/" + states(x) + "/" + x.ofProcess(1, 3), "-1/0/13/1");
+    Checks.due("-1, and it is not waited for", x.cell(1, 8) + "/" + x.cell(1, 10) + "/" + Checks.states(x) + "/" + x.ofProcess(1, 3), "-1/0/13/1");
     x.run(60);
-    Checks.due("by the next one", x.cell(1, 12) + "/" + x.cell(1, 10) + "/" + states(x), "2/6/24");
+    Checks.due("by the next one", x.cell(1, 12) + "/" + x.cell(1, 10) + "/" + Checks.states(x), "2/6/24");
     // so of a PIPE with a cell, and of one with room
     Pagekernel y = Checks.begun("I ( b ) { } F ( ) { on ( 2 , 3 ) ; pipe ( x ) ; d = fork ( ) ; if ( ! d ) { get ( y ) ; write ( 1 , 5 ) ; get ( y ) ; } a = read ( 0 , & c ) ; e = read ( 0 , & c ) ; get ( y ) ; }", 0);
     y.run(60);
@@ -258,7 +242,7 @@ public final class SeldomTest {
     Checks.sentence("It CAN GO ON if it is READY, or WAITING and either a signal is to be taken, or its CALL would not WAIT now.");
     Pagekernel x = Checks.begun("F ( ) { pipe ( x ) ; fork ( ) ; fork ( ) ; a = pid ( ) ; if ( a == 1 ) { while ( 1 ) { get ( & b ) ; write ( 1 , b ) ; } } while ( 1 ) { read ( 0 , & b ) ; put ( b ) ; } }", 0);
     x.run(200);
-    Checks.due("all WAIT", states(x) + "/" + x.house(1), "2222/0");
+    Checks.due("all WAIT", Checks.states(x) + "/" + x.house(1), "2222/0");
     x.give(7);
     Checks.ticks(x, 2);
     Checks.due("each of three CAN, and the writer", x.inPipe(0) + "/" + x.house(1) + "/" + x.can(2) + x.can(3) + x.can(4), "7/4/truetruetrue");
@@ -545,7 +529,7 @@ public final class SeldomTest {
       }
     }
     Checks.sentence("Returns the place in its TEXT of the first TOKEN of the STATEMENT that begins next, or in which it WAITS;");
-    Pagekernel y = Checks.begun("F ( ) { " + times(";", 150) + "get ( y ) ; }", 0);
+    Pagekernel y = Checks.begun("F ( ) { " + Checks.times(";", 150) + "get ( y ) ; }", 0);
     for (int place = 4; place <= 154; place++) {
       Checks.due("where", y.where(1), place);
       y.step();

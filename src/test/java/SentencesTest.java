@@ -2,10 +2,6 @@
 public final class SentencesTest {
   private static final String LOOP = "F ( ) { while ( 1 ) ; }";
 
-  private static int many(String text) {
-    return text.trim().isEmpty() ? 0 : text.trim().split(" +").length;
-  }
-
   private static void none() {
     Checks.sentence("NONE is -1.");
     Pagekernel x = Checks.with("F ( ) { }");
@@ -90,7 +86,7 @@ public final class SentencesTest {
     Checks.sentence("STATE: 1 READY, 2 WAITING, 3 ENDED (its parent has not waited for it; it has its SLOT still), 4 GONE. It rests ahead of a STATEMENT that begins next, or in a CALL of a SERVICE that WAITS.");
     String text = "F ( ) { a = fork ( ) ; if ( a ) { get ( y ) ; wait ( 0 ) ; get ( y ) ; } exit ( 1 ) ; }";
     Pagekernel x = Checks.begun(text, 0);
-    int get = many("F ( ) { a = fork ( ) ; if ( a ) {");
+    int get = Checks.many("F ( ) { a = fork ( ) ; if ( a ) {");
     String[] due = {"10/4/-1", "11/10/10", "11/" + get + "/10", "21/" + get + "/10", "21/" + get + "/" + (get + 16), "23/" + get + "/-1"};
     for (int i = 0; i < due.length; i++) {
       Checks.due("behind " + i + " TICKS", "" + x.state(1) + x.state(2) + "/" + x.where(1) + "/" + (x.state(2) == 0 ? -1 : x.where(2)), due[i]);

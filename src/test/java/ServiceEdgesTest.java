@@ -3,14 +3,6 @@ public final class ServiceEdgesTest {
   private static final int LEAST = Integer.MIN_VALUE;
   private static final int MOST = Integer.MAX_VALUE;
 
-  private static String times(String part, int many) {
-    StringBuilder all = new StringBuilder();
-    for (int i = 0; i < many; i++) {
-      all.append(part).append(' ');
-    }
-    return all.toString();
-  }
-
   /** A PROCESS that does a setup, and then a CALL with each two INPUTS a and b, and puts what is told. */
   private static Pagekernel asked(String setup, String call) {
     Pagekernel x = Checks.begun("I ( a ) { } H ( ) { } F ( ) { " + setup + " while ( 1 ) { get ( & a ) ; get ( & b ) ; c = " + call + " ; put ( c ) ; } }", 0);
@@ -48,8 +40,8 @@ public final class ServiceEdgesTest {
     Checks.sentence("An ADDRESS that is told to one is looked at ahead of all else: TRAP 1, if it is not OWN.");
     Checks.due("wait without children", ended("F ( ) { wait ( 7 ) ; }"), "201/2/4");
     Checks.due("wait that would WAIT", ended("F ( ) { a = fork ( ) ; if ( a == 0 ) while ( 1 ) ; wait ( 7 ) ; }"), "201/2/4");
-    Checks.due("pipe without free DESCRIPTORS", ended("F ( ) { " + times("open ( 1 , 1 ) ;", 6) + "pipe ( 7 ) ; }"), "201/2/4");
-    Checks.due("pipe, the second cell", ended("F ( ) { " + times("open ( 1 , 1 ) ;", 6) + "pipe ( y + 7 ) ; }"), "201/2/4");
+    Checks.due("pipe without free DESCRIPTORS", ended("F ( ) { " + Checks.times("open ( 1 , 1 ) ;", 6) + "pipe ( 7 ) ; }"), "201/2/4");
+    Checks.due("pipe, the second cell", ended("F ( ) { " + Checks.times("open ( 1 , 1 ) ;", 6) + "pipe ( y + 7 ) ; }"), "201/2/4");
     Checks.due("read of nothing", ended("F ( ) { read ( 0 , 7 ) ; }"), "201/2/4");
     Checks.due("read that would WAIT", ended("F ( ) { pipe ( x ) ; read ( 0 , 7 ) ; }"), "201/2/4");
     Checks.due("read at the end", ended("F ( ) { open ( 1 , 1 ) ; open ( 1 , 0 ) ; read ( 1 , 7 ) ; }"), "201/2/4");
@@ -250,7 +242,7 @@ public final class ServiceEdgesTest {
   private static void pipes() {
     Checks.sentence("pipe(a): a and a + 1 are ADDRESSES. -1 if fewer than 2 DESCRIPTORS are free, or there are 4 PIPES.");
     for (int open = 0; open <= 6; open++) {
-      Pagekernel x = Checks.begun("F ( ) { int d ; " + times("open ( 1 , 1 ) ;", open) + "x [ 3 ] = 9 ; x [ 4 ] = 9 ; d = pipe ( x + 3 ) ; get ( y ) ; }", 0);
+      Pagekernel x = Checks.begun("F ( ) { int d ; " + Checks.times("open ( 1 , 1 ) ;", open) + "x [ 3 ] = 9 ; x [ 4 ] = 9 ; d = pipe ( x + 3 ) ; get ( y ) ; }", 0);
       x.run(60);
       boolean isDone = open <= 4;
       Checks.due("told with " + open + " open", x.local(1, 0, 3), isDone ? "0" : "-1");
@@ -260,7 +252,7 @@ public final class ServiceEdgesTest {
     Checks.sentence("Otherwise the smallest free DESCRIPTOR leads to the reading end of a new PIPE, the next free one to its writing end; both are stored at a and a + 1; 0.");
     for (int first = 0; first < 6; first++) {
       for (int second = first + 1; second < 6; second++) {
-        Pagekernel x = Checks.begun("F ( ) { " + times("open ( 1 , 1 ) ;", 6) + "close ( " + second + " ) ; close ( " + first + " ) ; a = 7 ; a = pipe ( x ) ; get ( y ) ; }", 0);
+        Pagekernel x = Checks.begun("F ( ) { " + Checks.times("open ( 1 , 1 ) ;", 6) + "close ( " + second + " ) ; close ( " + first + " ) ; a = 7 ; a = pipe ( x ) ; get ( y ) ; }", 0);
         x.run(60);
         Checks.due("told", x.cell(1, 8) + x.cell(1, 16) + x.cell(1, 17), "0" + first + second);
         Checks.due("DESCRIPTORS", x.descriptor(1, first) + x.descriptor(1, second), "r0w0");
@@ -503,7 +495,7 @@ public final class ServiceEdgesTest {
     Checks.sentence("close(d): 0; -1 if it is not open.");
     eachTells("open ( 1 , 1 ) ; open ( 1 , 1 ) ; close ( 0 ) ;", "close ( a )", -1, new int[] {-1, 0, 2, 5, 6, LEAST, MOST}, new int[] {0});
     for (int d = 0; d < 6; d++) {
-      Pagekernel x = asked(times("open ( 1 , 1 ) ;", 6), "close ( a )");
+      Pagekernel x = asked(Checks.times("open ( 1 , 1 ) ;", 6), "close ( a )");
       asks(x, "close", d, 0, 0);
       Checks.due("descriptor", x.descriptor(1, d) + x.ofProcess(1, 9), "-5");
       asks(x, "close again", d, 0, -1);
@@ -534,7 +526,7 @@ public final class ServiceEdgesTest {
     x.send(2, 3);
     x.run(9);
     Checks.due("BODIES", x.house(4), 0);
-    Pagekernel z = asked(times("open ( 1 , 1 ) ; unlink ( 1 ) ;", 6), "close ( a )");
+    Pagekernel z = asked(Checks.times("open ( 1 , 1 ) ; unlink ( 1 ) ;", 6), "close ( a )");
     int left = 6;
     for (int d : new int[] {3, 5, 0, 4, 2, 1}) {
       Checks.due("BODIES", z.house(4), left);

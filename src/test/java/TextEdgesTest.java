@@ -16,22 +16,10 @@ public final class TextEdgesTest {
   /** With what a STATEMENT may begin. */
   private static final String STATEMENT = "{ int ; if while break return * x y " + FUNCTIONS + " " + SERVICES + " " + NAMES;
 
-  private static int many(String text) {
-    return text.trim().isEmpty() ? 0 : text.trim().split(" +").length;
-  }
-
   private static void error(String text, int kind, int place) {
     Pagekernel x = Checks.with(text);
     Checks.due("kind of " + text, x.kind(0), kind);
     Checks.due("error of " + text, x.error(0), place);
-  }
-
-  private static String times(String part, int many) {
-    StringBuilder all = new StringBuilder();
-    for (int i = 0; i < many; i++) {
-      all.append(part).append(' ');
-    }
-    return all.toString();
   }
 
   // ---- TEXTS and TOKENS
@@ -62,8 +50,8 @@ public final class TextEdgesTest {
 
   private static void fullTextsRun() {
     Checks.sentence("PROGRAMS: 0 to 3, each with a TEXT of at most 160 TOKENS (empty at first).");
-    String long160 = "F ( ) { " + times("put ( 3 ) ;", 30) + "put ( 4 ) ; }";
-    Checks.due("its TOKENS", many(long160), 160);
+    String long160 = "F ( ) { " + Checks.times("put ( 3 ) ;", 30) + "put ( 4 ) ; }";
+    Checks.due("its TOKENS", Checks.many(long160), 160);
     for (int level = 0; level <= 2; level++) {
       Pagekernel x = Checks.with(long160);
       Checks.due("kind", x.kind(0), 0);
@@ -73,17 +61,17 @@ public final class TextEdgesTest {
       Checks.due("OUTS", x.house(10), 31);
       Checks.due("the last one", x.out(29), "1:3 1:4");
       // what makes the most code out of 160 TOKENS
-      Pagekernel y = Checks.with("F ( ) { " + times("a = b ;", 38) + "; ; ; }");
+      Pagekernel y = Checks.with("F ( ) { " + Checks.times("a = b ;", 38) + "; ; ; }");
       y.level(level);
       y.start(0);
       Checks.due("TICKS of " + y.text(0), y.run(200), 41);
-      Pagekernel z = Checks.with("F ( ) { a = " + times("x [", 48) + "a " + times("]", 48) + "; put ( a ) ; }");
+      Pagekernel z = Checks.with("F ( ) { a = " + Checks.times("x [", 48) + "a " + Checks.times("]", 48) + "; put ( a ) ; }");
       Checks.due("its TOKENS", z.length(0), 158);
       z.level(level);
       z.start(0);
       z.run(200);
       Checks.due("deep in a ROW", z.ofProcess(1, 8) * 1000 + z.ofProcess(1, 7), 1000);
-      Pagekernel w = Checks.with("F ( ) { " + times("while ( 1 )", 37) + "break ; }");
+      Pagekernel w = Checks.with("F ( ) { " + Checks.times("while ( 1 )", 37) + "break ; }");
       w.level(level);
       w.start(0);
       Checks.due("deep in loops: none ends but the innermost", w.run(200), 200);
@@ -127,7 +115,7 @@ public final class TextEdgesTest {
       can.addAll(Arrays.asList(some.split(" ")));
     }
     Pagekernel x = Checks.with(behind);
-    int place = many(behind);
+    int place = Checks.many(behind);
     boolean isOneDeep = depth(behind) == 1;
     for (int token = 0; token < 80; token++) {
       String sign = Checks.sign(token);
@@ -256,7 +244,7 @@ public final class TextEdgesTest {
       int length = x.sample(0, k);
       String text = x.text(0);
       int first = k == 1 || k == 5 || k == 7 ? text.indexOf("} F") + 1 : -1;
-      int firstEnds = first < 0 ? -1 : many(text.substring(0, first));
+      int firstEnds = first < 0 ? -1 : Checks.many(text.substring(0, first));
       for (int left = length - 1; left >= 0; left--) {
         x.drop(0, 1);
         Checks.due("error of " + left + " of sample " + k, x.error(0), left);
@@ -264,11 +252,11 @@ public final class TextEdgesTest {
       }
     }
     error("", 1, 0);
-    error(times("F", 160), 1, 1);
-    error(("F ( ) { " + times("{", 156)).trim(), 1, 160);
-    error(("F ( ) { " + times(";", 156)).trim(), 1, 160);
-    error(("F ( ) { " + times(";", 155) + "}").trim(), 0, -1);
-    error(("F ( ) { } " + times("G ( ) { }", 31)).trim(), 6, 10);
+    error(Checks.times("F", 160), 1, 1);
+    error(("F ( ) { " + Checks.times("{", 156)).trim(), 1, 160);
+    error(("F ( ) { " + Checks.times(";", 156)).trim(), 1, 160);
+    error(("F ( ) { " + Checks.times(";", 155) + "}").trim(), 0, -1);
+    error(("F ( ) { } " + Checks.times("G ( ) { }", 31)).trim(), 6, 10);
   }
 
   private static void elses() {
@@ -360,7 +348,7 @@ public final class TextEdgesTest {
     for (int takes = 0; takes <= 8; takes++) {
       for (int told = 0; told <= 9; told++) {
         String text = "G ( " + list(takes, ", ", names) + ") { } F ( ) { G ( " + list(told, ", ", new String[] {"1", "a + 1", "x [ 1 ]"}) + ") ; }";
-        int place = many("G ( " + list(takes, ", ", names) + ") { } F ( ) {");
+        int place = Checks.many("G ( " + list(takes, ", ", names) + ") { } F ( ) {");
         error(text, takes == told ? 0 : 3, takes == told ? -1 : place);
       }
     }
@@ -456,7 +444,7 @@ public final class TextEdgesTest {
     error("G ( ) { } H ( ) { } I ( ) { }", 8, 15);
     error("F ( a ) { }", 8, 6);
     error("F ( a , b , c , d , e , f , g , h ) { ; }", 8, 21);
-    error(("G ( ) { " + times(";", 155) + "}").trim(), 8, 160);
+    error(("G ( ) { " + Checks.times(";", 155) + "}").trim(), 8, 160);
     error("G ( ) { break ; }", 5, 4);
     error("F ( a ) { int a ; }", 7, 6);
   }
@@ -472,13 +460,13 @@ public final class TextEdgesTest {
           continue;
         }
         String ahead = "F ( ) { int h ; ";
-        error(ahead + parts[first - 2] + " " + parts[second - 2] + " }", first, many(ahead) + places[first - 2]);
-        error(ahead + parts[first - 2] + " } F ( ) { }", first, many(ahead) + places[first - 2]);
+        error(ahead + parts[first - 2] + " " + parts[second - 2] + " }", first, Checks.many(ahead) + places[first - 2]);
+        error(ahead + parts[first - 2] + " } F ( ) { }", first, Checks.many(ahead) + places[first - 2]);
         error("F ( ) { } F ( ) { int h ; " + parts[first - 2] + " }", 6, 5);
       }
       if (first != 6) {
         String all = "F ( a ) { int h ; " + parts[first - 2] + " }";
-        error(all, first, many("F ( a ) { int h ;") + places[first - 2]);
+        error(all, first, Checks.many("F ( a ) { int h ;") + places[first - 2]);
       }
     }
     error("F ( ) { break ; } ;", 1, 7);
@@ -522,7 +510,7 @@ public final class TextEdgesTest {
     Checks.due("back", x.change(0, 9, 41), 0);
     Checks.due("error then", x.error(0), -1);
     Checks.sentence("The TEXT becomes a SAMPLE (section 7).");
-    Pagekernel y = Checks.with("F ( ) { " + times(";", 155) + "}");
+    Pagekernel y = Checks.with("F ( ) { " + Checks.times(";", 155) + "}");
     Checks.due("of a full TEXT", y.sample(0, 0), 27);
     Checks.due("kind", y.kind(0), 0);
     String[] samples = {"F ( ) { int a ; while ( a < 3 ) { put ( a ) ; a = a + 1 ; } }",
@@ -538,7 +526,7 @@ public final class TextEdgesTest {
           + "put ( x [ 1 ] + x [ 2 ] * 10 ) ; exec ( 0 ) ; }"};
     for (int k = 0; k < samples.length; k++) {
       Checks.sentence(k + ": " + samples[k]);
-      Checks.due("sample(0, " + k + ")", y.sample(0, k), many(samples[k]));
+      Checks.due("sample(0, " + k + ")", y.sample(0, k), Checks.many(samples[k]));
       Checks.due("text", y.text(0), samples[k]);
       Checks.due("kind", y.kind(0), 0);
     }
