@@ -551,6 +551,7 @@ public final class FileEdgesTest {
     }
     int outs = x.house(10);
     Checks.due("TICKS", x.house(6), 491 * 200);
+    Checks.due("its TICKS", x.ofProcess(1, 6), 491 * 200);
     Checks.due("OUTS", outs, 491 * 180);
     Checks.due("the last ones", x.out(outs - 3), "1:7 1:8 1:9");
     Checks.due("the first ones", x.out(0).substring(0, 11), "1:1 1:2 1:3");

@@ -349,6 +349,14 @@ public final class SeldomTest {
       Checks.due("USED stays", y.turn(1), 7);
       Checks.due("whose TICK would be next with QUANTUM " + quantum, y.turn(2), quantum <= 7 ? 2 : 1);
     }
+    // another one in the SLOT of the last TICK has a turn of its own
+    Pagekernel w = Checks.with(LOOP);
+    w.start(0);
+    w.send(1, 3);
+    w.step();
+    Checks.due("TURN is GONE", w.turn(0) + "/" + w.turn(1) + "/" + w.start(0) + "/" + w.ofProcess(2, 11), "1/1/2/0");
+    Checks.due("USED of the new one", w.step() + "/" + w.turn(0) + "/" + w.turn(1), "2/2/1");
+    Checks.due("its turn", w.step() + w.step() + w.step() + "/" + w.turn(1), "6/1");
     Checks.sentence("Returns how often one knocked, with this.");
     Pagekernel z = new Pagekernel();
     for (int i = 1; i <= 500; i++) {
@@ -537,6 +545,102 @@ public final class SeldomTest {
     Checks.due("WAITING at the end of a full TEXT", y.length(0) + "/" + y.where(1) + "/" + y.state(1), "160/154/2");
   }
 
+  /** Each SERVICE that stores does so at each ADDRESS that is OWN, and nowhere else. */
+  private static void storedEverywhere() {
+    Checks.sentence("An ADDRESS that is told to one is looked at ahead of all else: TRAP 1, if it is not OWN.");
+    String[] calls = {"get ( b )", "wait ( b )", "read ( 0 , b )", "read ( 2 , b )", "pipe ( b )"};
+    for (String call : calls) {
+      for (int address = 7; address <= 96; address++) {
+        Pagekernel x = Checks.begun("F ( ) { grow ( 8 * 8 ) ; pipe ( x ) ; write ( 1 , 19 * 4 ) ; open ( 5 , 0 ) ; a = fork ( ) ; if ( ! a ) exit ( 19 * 4 ) ; pause ( ) ; get ( & b ) ; c = 9 ; c = " + call
+            + " ; get ( y ) ; }", 0);
+        x.store(5, 76);
+        x.run(60);
+        x.give(address);
+        x.give(76);
+        boolean isPipe = call.startsWith("pipe");
+        boolean isOwn = address >= 8 && address < (isPipe ? 95 : 96);
+        Pagekernel twin = Checks.begun(x.text(0), 0);
+        twin.store(5, 76);
+        twin.run(60);
+        twin.give(address);
+        twin.run(1);
+        x.run(isOwn ? 3 : 60);
+        Checks.due("CODE of " + call + " at " + address, x.ofProcess(1, 7), isOwn ? 0 : 201);
+        for (int other = 8; isOwn && other < 96; other++) {
+          String was = other == 9 ? "" + address : twin.cell(1, other);
+          String due = other == address ? isPipe ? "3" : "76" : isPipe && other == address + 1 ? "4" : was;
+          String told = isPipe ? "0" : call.startsWith("wait") ? "2" : "1";
+          // c is told last
+          Checks.due("cell " + other + " behind " + call + " at " + address, x.cell(1, other), other == 10 ? told : due);
+        }
+      }
+    }
+  }
+
+  private static void zeroesStored() {
+    Checks.sentence("With an ENDED child: that with the smallest PID is GONE, its CODE is stored at a (unless a is 0); its PID.");
+    String[] calls = {"get ( b )", "wait ( b )", "read ( 0 , b )", "read ( 2 , b )", "pipe ( b )"};
+    for (String call : calls) {
+      for (String cell : new String[] {"12", "y", "y + 8", "x + 19 * 4"}) {
+        Pagekernel x = Checks.begun("F ( ) { grow ( 8 * 8 ) ; pipe ( x ) ; write ( 1 , 0 ) ; open ( 5 , 0 ) ; a = fork ( ) ; if ( ! a ) exit ( 0 ) ; pause ( ) ; close ( 5 ) ; b = " + cell + " ; * b = 9 ; "
+            + (call.startsWith("pipe") ? "close ( 0 ) ; " : "") + "c = " + call + " ; d = * b ; get ( y ) ; }", 0);
+        x.store(5, 0);
+        if (call.startsWith("get")) {
+          x.give(0);
+        }
+        x.run(60);
+        Checks.due("0 is stored by " + call, x.cell(1, 11), "0");
+      }
+    }
+  }
+
+  private static void forkedPositions() {
+    Checks.sentence("A forked PROCESS has DESCRIPTORS that lead to the same OPENINGS.");
+    Pagekernel x = Checks.begun("F ( ) { open ( 1 , 1 ) ; while ( a < 6 ) { a = a + 1 ; b = open ( a , 1 + a % 2 ) ; while ( c < a ) { write ( b , a ) ; c = c + 1 ; } c = 0 ; } close ( 3 ) ; open ( 1 , 0 ) ; read ( 3 , & d ) ; fork ( ) ; "
+        + "a = pid ( ) ; if ( a == 2 ) while ( c < 5 ) { write ( 5 , 9 ) ; c = c + 1 ; } get ( y ) ; }", 0);
+    String ahead = "";
+    for (int i = 0; i < 200 && x.house(8) == 1; i++) {
+      ahead = "";
+      for (int d = 0; d < 6; d++) {
+        ahead = ahead + x.descriptor(1, d) + " ";
+      }
+      x.step();
+    }
+    Checks.due("ahead of fork", ahead, "f1@0:1 f1@1:2 f2@2:1 f1@1:0 f4@4:1 f5@5:2 ");
+    for (int pid = 1; pid <= 2; pid++) {
+      String behind = "";
+      for (int d = 0; d < 6; d++) {
+        behind = behind + x.descriptor(pid, d) + " ";
+      }
+      Checks.due("behind fork", behind, ahead);
+    }
+    x.run(60);
+    Checks.due("one position for both", x.descriptor(1, 5) + x.descriptor(2, 5), "f5@10:2f5@10:2");
+  }
+
+  /** A SYNC that is halted at each block, with each BODY in use and each cell of each FILE about to change. */
+  private static void haltedWithAll() {
+    Checks.sentence("A SYNC that is halted by a CRASH (it counts as one), as it had written all ACTS and then k more blocks of the disk: FILES stay what they are.");
+    for (int way = 0; way < 200; way++) {
+      int k = way / 2;
+      Pagekernel x = Checks.begun("F ( ) { while ( a < 4 ) { open ( a , 1 ) ; unlink ( a ) ; a = a + 1 ; } get ( & b ) ; open ( b , 1 ) ; while ( c < 16 ) { write ( 4 , - c ) ; c = c + 1 ; } get ( y ) ; }", 0);
+      x.run(60);
+      for (int i = 0; i < 16 * 8; i++) {
+        x.store(i / 16, 1000 + i);
+      }
+      Checks.due("BODIES", x.house(4), 12);
+      x.sync();
+      x.give(way % 2 == 0 ? 7 : k % 8);
+      x.run(60);
+      Checks.due("PENDING", x.house(5), 16);
+      String now = x.would(16);
+      Checks.due("halted(" + k + ")", x.halted(k), 8);
+      Checks.due("FILES stay behind " + k, x.would(0), now);
+      x.crash(0, false);
+      Checks.due("and behind the next CRASH", x.would(0), now);
+    }
+  }
+
   /** What is open or closed as ACTS are SYNCED. */
   private static void openAsActsAreSynced() {
     Checks.sentence("That a FILE is made, and that one with cells is emptied (all positions in it become 0), are ACTS.");
@@ -570,6 +674,10 @@ public final class SeldomTest {
   public static void main(String[] arguments) {
     lastPids();
     farValues();
+    storedEverywhere();
+    zeroesStored();
+    forkedPositions();
+    haltedWithAll();
     openAsActsAreSynced();
     eachProgram();
     deepE();
