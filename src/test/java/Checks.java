@@ -244,7 +244,7 @@ final class Checks {
       d = mix(mix(d, x.error(program)), x.kind(program));
     }
     for (int pid = 1; pid <= x.house(8); pid++) {
-      d = mixProcess(d, x.state(pid) < 3 ? maker.make() : x, pid);
+      d = mixProcess(d, maker.make(), pid);
     }
     for (int pipe = 0; pipe < 4; pipe++) {
       d = mix(d, x.inPipe(pipe));

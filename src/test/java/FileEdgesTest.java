@@ -546,13 +546,13 @@ public final class FileEdgesTest {
     Checks.sentence("An object is used for at most 512 calls after it has been made; what later calls answer is free.");
     Pagekernel x = Checks.begun("F ( ) { while ( 1 ) { put ( 1 ) ; put ( 2 ) ; put ( 3 ) ; put ( 4 ) ; put ( 5 ) ; put ( 6 ) ; put ( 7 ) ; put ( 8 ) ; put ( 9 ) ; } }", 0);
     int calls = 15;
-    for (; calls < 506; calls++) {
+    for (; calls < 505; calls++) {
       x.run(200);
     }
     int outs = x.house(10);
-    Checks.due("TICKS", x.house(6), 491 * 200);
-    Checks.due("its TICKS", x.ofProcess(1, 6), 491 * 200);
-    Checks.due("OUTS", outs, 491 * 180);
+    Checks.due("TICKS", x.house(6), 490 * 200);
+    Checks.due("its TICKS", x.ofProcess(1, 6), 490 * 200);
+    Checks.due("OUTS", outs, 490 * 180);
     Checks.due("the last ones", x.out(outs - 3), "1:7 1:8 1:9");
     Checks.due("the first ones", x.out(0).substring(0, 11), "1:1 1:2 1:3");
     Checks.due("isSound()", x.isSound(), true);

@@ -186,11 +186,7 @@ public final class SeldomTest {
     Checks.write(z, 1, "F ( ) { get ( y ) ; }");
     z.start(0);
     z.run(60);
-    String all = "";
-    for (int d = 0; d < 6; d++) {
-      all = all + z.descriptor(1, d) + " ";
-    }
-    Checks.due("all six DESCRIPTORS", all + z.ofProcess(1, 9) + z.ofProcess(1, 5), "r0 w0 f1@0:1 f1@0:2 f1@0:3 f1@0:0 61");
+    Checks.due("all six DESCRIPTORS", descriptors(z, 1) + z.ofProcess(1, 9) + z.ofProcess(1, 5), "r0 w0 f1@0:1 f1@0:2 f1@0:3 f1@0:0 61");
   }
 
   private static void signalledAsAChildEnds() {
@@ -296,7 +292,7 @@ public final class SeldomTest {
         + "go out to the disk at once. (These FRAMES are not those of section 2.)");
     String text = "G ( a ) { if ( a < 2 || 0 ) return 1 + 1 * 0 ; a = G ( a - 1 ) ; return a + a ; } F ( ) { if ( 1 && ! 0 ) { b = fork ( ) ; c = G ( 4 - 1 ) ; x [ 8 - 1 ] = c ; while ( 1 ) { put ( c + b ) ; d = d + 1 ; if ( d > 2 ) exec ( 0 ) ; "
         + "if ( d == 2 && ! b ) exit ( 1 ) ; } } }";
-    long[] due = new long[150];
+    long[] due = new long[95];
     for (int way = 0; way < 3; way++) {
       Pagekernel x = Checks.begun(text, 0);
       for (int i = 0; i < due.length; i++) {
@@ -429,7 +425,7 @@ public final class SeldomTest {
     for (String text : texts) {
       Pagekernel x = Checks.begun(text, 0);
       List<String> behind = new ArrayList<>(List.of(""));
-      for (int i = 0; i < 160; i++) {
+      for (int i = 0; i < 140; i++) {
         x.step();
         int acts = x.house(5);
         String now = x.would(acts);
@@ -446,9 +442,9 @@ public final class SeldomTest {
           for (int n = 0; n < behind.size(); n++) {
             int last = i;
             int many = n;
-            Checks.due("would(" + n + ") behind " + i + " of " + text, x.would(n), behind.get(n));
             Pagekernel twin = Checks.begun(text, 0);
             twin.run(last + 1);
+            Checks.due("would(" + n + ") behind " + i + " of " + text, twin.would(n), behind.get(n));
             twin.crash(many, many % 2 == 0);
             Checks.due("behind a CRASH", twin.would(0), behind.get(n));
           }
@@ -594,26 +590,26 @@ public final class SeldomTest {
     }
   }
 
+  private static String descriptors(Pagekernel x, int pid) {
+    StringBuilder all = new StringBuilder();
+    for (int d = 0; d < 6; d++) {
+      all.append(x.descriptor(pid, d)).append(' ');
+    }
+    return all.toString();
+  }
+
   private static void forkedPositions() {
     Checks.sentence("A forked PROCESS has DESCRIPTORS that lead to the same OPENINGS.");
     Pagekernel x = Checks.begun("F ( ) { open ( 1 , 1 ) ; while ( a < 6 ) { a = a + 1 ; b = open ( a , 1 + a % 2 ) ; while ( c < a ) { write ( b , a ) ; c = c + 1 ; } c = 0 ; } close ( 3 ) ; open ( 1 , 0 ) ; read ( 3 , & d ) ; fork ( ) ; "
         + "a = pid ( ) ; if ( a == 2 ) while ( c < 5 ) { write ( 5 , 9 ) ; c = c + 1 ; } get ( y ) ; }", 0);
-    String ahead = "";
-    for (int i = 0; i < 200 && x.house(8) == 1; i++) {
-      ahead = "";
-      for (int d = 0; d < 6; d++) {
-        ahead = ahead + x.descriptor(1, d) + " ";
-      }
+    int fork = x.length(0) - Checks.many("fork ( ) ; a = pid ( ) ; if ( a == 2 ) while ( c < 5 ) { write ( 5 , 9 ) ; c = c + 1 ; } get ( y ) ; }");
+    for (int i = 0; i < 150 && x.where(1) != fork; i++) {
       x.step();
     }
-    Checks.due("ahead of fork", ahead, "f1@0:1 f1@1:2 f2@2:1 f1@1:0 f4@4:1 f5@5:2 ");
-    for (int pid = 1; pid <= 2; pid++) {
-      String behind = "";
-      for (int d = 0; d < 6; d++) {
-        behind = behind + x.descriptor(pid, d) + " ";
-      }
-      Checks.due("behind fork", behind, ahead);
-    }
+    String due = "f1@0:1 f1@1:2 f2@2:1 f1@1:0 f4@4:1 f5@5:2 ";
+    Checks.due("ahead of fork", descriptors(x, 1), due);
+    x.step();
+    Checks.due("behind fork", descriptors(x, 1) + "/ " + descriptors(x, 2), due + "/ " + due);
     x.run(60);
     Checks.due("one position for both", x.descriptor(1, 5) + x.descriptor(2, 5), "f5@10:2f5@10:2");
   }
